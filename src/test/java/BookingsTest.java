@@ -12,6 +12,7 @@ public final class BookingsTest {
         checkBookFull(check);
         checkCancel(check);
         checkSwap(check);
+        checkSwapOfOneMember(check);
         checkSwapOnOneMachine(check);
         check.finish();
     }
@@ -145,6 +146,24 @@ public final class BookingsTest {
         check.refused(club, before, "swap(0, 1), cancelled", club.swap(0, 1), NOT_POSSIBLE);
         check.refused(club, before, "swap(1, 0), cancelled", club.swap(1, 0), NOT_POSSIBLE);
         check.refused(club, before, "swap(1, 1), cancelled", club.swap(1, 1), BAD_VALUE);
+    }
+
+    private static void checkSwapOfOneMember(Check check) {
+        check.part("promise 7, one member");
+        BallastClub club = club();
+        club.book(0, 1, 3, 20, 10);
+        club.book(0, 0, 3, 30, 10);
+        check.due("swap(1, 0), one half day", club.swap(1, 0), 3);
+        check.due("booking(0, 1)", club.booking(0, 1), 0);
+        check.due("booking(1, 1)", club.booking(1, 1), 1);
+        club.book(1, 0, 8, 30, 10);
+        club.setWind(3, 33);
+        check.due("swap(2, 0), one machine", club.swap(2, 0), 3);
+        check.due("booking(0, 1)", club.booking(0, 1), 0);
+        check.due("booking(0, 2)", club.booking(0, 2), 8);
+        check.due("booking(2, 1)", club.booking(2, 1), 0);
+        check.due("booking(2, 6)", club.booking(2, 6), 33);
+        check.due("booking(2, 0), the member stays", club.booking(2, 0), 1);
     }
 
     /** Machine 0 lost its ballast after both bookings: neither lift is borne, though each has the machine. */

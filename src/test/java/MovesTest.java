@@ -13,6 +13,7 @@ public final class MovesTest {
         checkPassErrors(check);
         checkMovesOfAHalfDay(check);
         checkMovesInOrder(check);
+        checkTenMovesAtOnce(check);
         checkNoted(check);
         checkStandbyByBallast(check);
         checkStandbyByWind(check);
@@ -170,6 +171,22 @@ public final class MovesTest {
         check.due("machine(2, 1)", club.machine(2, 1), 12);
         check.due("done", club.count(9), 4);
         check.due("failed", club.count(10), 0);
+    }
+
+    private static void checkTenMovesAtOnce(Check check) {
+        check.part("promise 10, ten moves");
+        BallastClub club = club(12, 0);
+        for (int move = 0; move < 10; move++) {
+            check.due("order", club.order(move % 3, 0, 1, 1, 4), move);
+        }
+        check.due("willBear(0, 60, 4)", club.willBear(0, 60, 4), 10300 / 60);
+        check.due("pass(5)", club.pass(5), 0);
+        check.due("open", club.count(8), 0);
+        check.due("done", club.count(9), 10);
+        check.due("machine(0, 1)", club.machine(0, 1), 2);
+        check.due("machine(1, 1)", club.machine(1, 1), 10);
+        check.due("the last one of them", club.machine(0, 5), 0);
+        check.due("count(11)", club.count(11), 70);
     }
 
     private static void checkNoted(Check check) {
