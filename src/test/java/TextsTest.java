@@ -85,6 +85,8 @@ public final class TextsTest {
         typeAll(club, "7:7;7:8;7:0;7:6");
         check.due("one half day more than once", club.readWinds(), 4);
         check.due("the last one counts", club.wind(7), 6);
+        check.due("the others stay", club.wind(0), 1);
+        check.due("the others stay", club.wind(199), 99);
         typeAll(club, "0:0;1:1;2:2;3:3;4:4;5:5;6:6;7:7;8:8;9:9;0:1;1:2;2:3;3:4;4:52");
         check.due("as many as there can be", club.readWinds(), 15);
         check.due("wind(4)", club.wind(4), 52);
