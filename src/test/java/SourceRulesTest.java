@@ -21,6 +21,7 @@ public final class SourceRulesTest {
         checkBanned(check, code);
         checkStatics(check, code);
         checkLengths(check, code);
+        checkObjects(check, code);
         check.finish();
     }
 
@@ -66,5 +67,18 @@ public final class SourceRulesTest {
             }
         }
         check.holds("a method without an end", head < 0);
+    }
+
+    /** Stricter than the rule: objects are made by constructors alone, so that no call uses up the room. */
+    private static void checkObjects(Check check, String code) {
+        check.part("rule 12");
+        String head = "";
+        for (String line : code.split("\n")) {
+            if (line.matches(" +[a-zA-Z].*\\).*\\{") && !line.matches(" +(if|for|while|switch|do)\\b.*")) {
+                head = line.trim();
+            }
+            boolean isConstructor = head.matches("((public|private) )?[A-Z]\\w*\\(.*");
+            check.holds("an object is made in " + head, isConstructor || !line.matches(".*\\bnew\\b.*"));
+        }
     }
 }
