@@ -28,8 +28,8 @@ public final class BookingEdgesTest {
     }
 
     /** Bookings in each state: 0 is given up, 1 is booked, 2 is done, 3 is cancelled; half day 1 is the present one. */
-    private static BallastClub eachState() {
-        BallastClub club = Clubs.of(1, 50, 0, 0, 0);
+    private static NotedClub eachState() {
+        NotedClub club = Clubs.of(1, 50, 0, 0, 0);
         club.book(0, 0, 0, 10, 60);
         club.book(0, 1, 9, 1, 2);
         club.book(0, 2, 0, 1, 2);
@@ -45,7 +45,7 @@ public final class BookingEdgesTest {
 
     private void checkNewBooking() {
         check.part("a new booking");
-        BallastClub club = Clubs.of(2, 50, 0, 0);
+        NotedClub club = Clubs.of(2, 50, 0, 0);
         club.setWind(7, 30);
         check.due("book", club.book(1, 1, 7, 77, 7), 0);
         club.setWind(7, 31);
@@ -66,7 +66,7 @@ public final class BookingEdgesTest {
     private void checkCancelOfThePresentHalfDay() {
         for (int present : new int[] {0, 1, 100, 198}) {
             check.part("cancel() at " + present);
-            BallastClub club = Clubs.passTo(Clubs.of(2, 50, 0), present);
+            NotedClub club = Clubs.passTo(Clubs.of(2, 50, 0), present);
             club.book(1, 0, present, 1, 2);
             club.book(1, 0, present + 1, 1, 2);
             check.due("the next one", club.cancel(1), 0);
@@ -83,7 +83,7 @@ public final class BookingEdgesTest {
             check.due("count(11)", club.count(11), 4);
         }
         check.part("cancel() of one that is carried over");
-        BallastClub club = Clubs.of(1, 50, 0);
+        NotedClub club = Clubs.of(1, 50, 0);
         club.book(0, 0, 0, 1, 2);
         club.setWind(0, 99);
         club.pass(1);
@@ -95,7 +95,7 @@ public final class BookingEdgesTest {
     /** "NOT_POSSIBLE if it is not in the state 0" */
     private void checkCancelOfEachState() {
         check.part("cancel() in each state");
-        BallastClub club = eachState();
+        NotedClub club = eachState();
         int[] states = {2, 0, 1, 3};
         for (int booking = 0; booking < states.length; booking++) {
             check.due("booking(" + booking + ", 5)", club.booking(booking, 5), states[booking]);
@@ -113,7 +113,7 @@ public final class BookingEdgesTest {
     /** "each gets the machine and the half day of the other one": all else stays. */
     private void checkSwapChangesWhat() {
         check.part("what swap() changes");
-        BallastClub club = Clubs.of(3, 50, 0, 0);
+        NotedClub club = Clubs.of(3, 50, 0, 0);
         club.setWind(0, 59);
         club.book(1, 0, 0, 40, 5);
         club.setWind(0, 60);
@@ -137,7 +137,7 @@ public final class BookingEdgesTest {
     /** "and accepts the wind that is told for it now", whatever was accepted, also if the half day is the same. */
     private void checkSwapAcceptsTheWind() {
         check.part("swap() accepts the wind");
-        BallastClub club = Clubs.of(1, 50, 0, 0);
+        NotedClub club = Clubs.of(1, 50, 0, 0);
         club.setWind(5, 60);
         club.book(0, 0, 5, 1, 2);
         club.book(0, 1, 5, 1, 2);
@@ -162,7 +162,7 @@ public final class BookingEdgesTest {
         check.part("swap() in each state");
         int[] states = {2, 0, 1, 3};
         for (int booking = 0; booking < 4; booking++) {
-            BallastClub club = eachState();
+            NotedClub club = eachState();
             int due = states[booking] == 0 ? BAD_VALUE : NOT_POSSIBLE;
             check.due("swap(" + booking + ", 1)", club.swap(booking, 1), due);
             check.due("swap(1, " + booking + ")", club.swap(1, booking), due);
@@ -180,7 +180,7 @@ public final class BookingEdgesTest {
         check.due("the other way round", withLoad(250).swap(1, 0), 3);
         check.due("machine 0 would get one more", withLoad(251).swap(0, 1), NOT_POSSIBLE);
         check.due("the other way round", withLoad(251).swap(1, 0), NOT_POSSIBLE);
-        BallastClub club = withLoad(250);
+        NotedClub club = withLoad(250);
         club.swap(0, 1);
         check.due("bookedAt(0, 3)", club.bookedAt(0, 3), 1);
         check.due("bookedAt(1, 4)", club.bookedAt(1, 4), 0);
@@ -191,8 +191,8 @@ public final class BookingEdgesTest {
     }
 
     /** Machine 0 bears 250 at 20, machine 1 has a booking of the load there. */
-    private static BallastClub withLoad(int load) {
-        BallastClub club = new BallastClub();
+    private static NotedClub withLoad(int load) {
+        NotedClub club = new NotedClub();
         club.addMachine(50, 0);
         club.addMachine(80, 0);
         club.addMember();
@@ -203,7 +203,7 @@ public final class BookingEdgesTest {
 
     private void checkSwapAsItStandsNow() {
         check.part("swap() as the machines stand now");
-        BallastClub club = Clubs.of(1, 50, 0, 2);
+        NotedClub club = Clubs.of(1, 50, 0, 2);
         club.book(0, 0, 5, 250, 20);
         club.book(0, 1, 6, 265, 20);
         check.due("one more block is needed", club.swap(0, 1), NOT_POSSIBLE);
@@ -218,7 +218,7 @@ public final class BookingEdgesTest {
     /** One machine that bears one of both loads no more: it would get it, at another half day. */
     private void checkSwapOnOneMachine() {
         check.part("swap() on one machine");
-        BallastClub club = Clubs.of(1, 50, 1, 0);
+        NotedClub club = Clubs.of(1, 50, 1, 0);
         club.book(0, 0, 5, 257, 20);
         club.book(0, 0, 6, 250, 20);
         club.book(0, 0, 7, 249, 20);
@@ -235,7 +235,7 @@ public final class BookingEdgesTest {
 
     private void checkSwapOfHalfDays() {
         check.part("swap() of the present and the last half day");
-        BallastClub club = Clubs.passTo(Clubs.of(1, 50, 0, 0), 20);
+        NotedClub club = Clubs.passTo(Clubs.of(1, 50, 0, 0), 20);
         club.book(0, 0, 20, 1, 2);
         club.book(0, 1, 199, 2, 2);
         check.due("swap(0, 1)", club.swap(0, 1), 199);
@@ -249,7 +249,7 @@ public final class BookingEdgesTest {
 
     private void checkBookedAtOfEachState() {
         check.part("bookedAt() in each state");
-        BallastClub club = eachState();
+        NotedClub club = eachState();
         check.due("done", club.bookedAt(2, 0), NONE);
         check.due("given up", club.bookedAt(0, 0), NONE);
         check.due("cancelled", club.bookedAt(1, 8), NONE);
@@ -263,7 +263,7 @@ public final class BookingEdgesTest {
     /** "the lowest one that bears the load as it stands now, and for which there is no booking in the state 0" */
     private void checkMachineForTheLowest() {
         check.part("machineFor()");
-        BallastClub club = Clubs.of(1, 50, 0, 2, 1, 2);
+        NotedClub club = Clubs.of(1, 50, 0, 2, 1, 2);
         check.due("all bear it", club.machineFor(3, 250, 20), 0);
         check.due("all but one", club.machineFor(3, 251, 20), 1);
         check.due("two bear it", club.machineFor(3, 265, 20), 1);
@@ -285,8 +285,8 @@ public final class BookingEdgesTest {
 
     private void checkMachineForFull() {
         check.part("machineFor() with five machines, and with none");
-        check.due("none", new BallastClub().machineFor(0, 1, 2), NONE);
-        BallastClub club = Clubs.of(1, 50, 0, 0, 0, 0, 0);
+        check.due("none", new NotedClub().machineFor(0, 1, 2), NONE);
+        NotedClub club = Clubs.of(1, 50, 0, 0, 0, 0, 0);
         for (int machine = 0; machine < 5; machine++) {
             check.due("machineFor(199, 1, 2)", club.machineFor(199, 1, 2), machine);
             check.due("book", club.book(0, machine, 199, 1, 2), machine);

@@ -18,8 +18,8 @@ public final class BookingsTest {
     }
 
     /** Two members; machine 0 bears 150 at 20, machine 1 bears 2000 at 2 and 1090 at 20. */
-    private static BallastClub club() {
-        BallastClub club = new BallastClub();
+    private static NotedClub club() {
+        NotedClub club = new NotedClub();
         club.addMachine(30, 0);
         club.addMachine(200, 12);
         club.addMember();
@@ -29,7 +29,7 @@ public final class BookingsTest {
 
     private static void checkBook(Check check) {
         check.part("promise 5");
-        BallastClub club = club();
+        NotedClub club = club();
         club.setWind(7, 42);
         String before = Told.all(club);
         check.refused(club, before, "member -1", club.book(-1, 0, 0, 1, 2), UNKNOWN);
@@ -66,7 +66,7 @@ public final class BookingsTest {
 
     private static void checkBookFull(Check check) {
         check.part("promise 5, full");
-        BallastClub club = club();
+        NotedClub club = club();
         for (int booking = 0; booking < 30; booking++) {
             check.due("book", club.book(booking % 2, 0, booking, 1 + booking, 2), booking);
         }
@@ -88,7 +88,7 @@ public final class BookingsTest {
 
     private static void checkCancel(Check check) {
         check.part("promise 6");
-        BallastClub club = club();
+        NotedClub club = club();
         club.book(1, 0, 0, 10, 2);
         club.book(0, 0, 1, 10, 2);
         club.book(1, 0, 2, 10, 2);
@@ -115,7 +115,7 @@ public final class BookingsTest {
 
     private static void checkSwap(Check check) {
         check.part("promise 7");
-        BallastClub club = club();
+        NotedClub club = club();
         club.setWind(5, 20);
         club.book(0, 0, 5, 150, 20);
         club.book(1, 1, 9, 100, 20);
@@ -150,7 +150,7 @@ public final class BookingsTest {
 
     private static void checkSwapOfOneMember(Check check) {
         check.part("promise 7, one member");
-        BallastClub club = club();
+        NotedClub club = club();
         club.book(0, 1, 3, 20, 10);
         club.book(0, 0, 3, 30, 10);
         check.due("swap(1, 0), one half day", club.swap(1, 0), 3);
@@ -169,7 +169,7 @@ public final class BookingsTest {
     /** Machine 0 lost its ballast after both bookings: neither lift is borne, though each has the machine. */
     private static void checkSwapOnOneMachine(Check check) {
         check.part("promise 7, one machine");
-        BallastClub club = new BallastClub();
+        NotedClub club = new NotedClub();
         club.addMachine(30, 4);
         club.addMachine(30, 0);
         club.addMember();

@@ -31,7 +31,7 @@ final class Check {
     }
 
     /** What must answer an error or NONE, and change nothing that is told. */
-    void refused(BallastClub club, String before, String call, long got, long want) {
+    void refused(NotedClub club, String before, String call, long got, long want) {
         due(call, got, want);
         holds(call + " changed something", before.equals(Told.all(club)));
     }

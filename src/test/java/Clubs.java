@@ -4,8 +4,8 @@ final class Clubs {
     }
 
     /** Some members, and machines of one strength with these blocks. */
-    static BallastClub of(int members, int strength, int... blocks) {
-        BallastClub club = new BallastClub();
+    static NotedClub of(int members, int strength, int... blocks) {
+        NotedClub club = new NotedClub();
         for (int member = 0; member < members; member++) {
             club.addMember();
         }
@@ -16,7 +16,7 @@ final class Clubs {
     }
 
     /** Lets half days pass until this one is the present one. */
-    static BallastClub passTo(BallastClub club, int halfDay) {
+    static NotedClub passTo(NotedClub club, int halfDay) {
         for (int present = club.count(0); present < halfDay; present += 20) {
             club.pass(Math.min(20, halfDay - present));
         }
@@ -24,7 +24,7 @@ final class Clubs {
     }
 
     /** Types this text in place of the one that was. */
-    static BallastClub type(BallastClub club, String text) {
+    static NotedClub type(NotedClub club, String text) {
         club.clearText();
         for (int index = 0; index < text.length(); index++) {
             club.type(text.charAt(index));

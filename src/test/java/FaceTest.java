@@ -20,6 +20,7 @@ public final class FaceTest {
         checkConstants(check);
         checkMethods(check);
         checkMembers(check);
+        checkNames(check);
         checkNewClub(check);
         check.finish();
     }
@@ -73,6 +74,23 @@ public final class FaceTest {
         for (Class<?> inside : BallastClub.class.getDeclaredClasses()) {
             check.holds(inside + " is shown", (inside.getModifiers() & (Modifier.PUBLIC | Modifier.PROTECTED)) == 0);
             check.holds(inside + " isn't static", Modifier.isStatic(inside.getModifiers()));
+        }
+    }
+
+    /** "No private method bears the name of a public one." */
+    private static void checkNames(Check check) {
+        check.part("names");
+        checkNames(check, BallastClub.class);
+        for (Class<?> inside : BallastClub.class.getDeclaredClasses()) {
+            checkNames(check, inside);
+        }
+    }
+
+    private static void checkNames(Check check, Class<?> one) {
+        for (Method method : one.getDeclaredMethods()) {
+            String name = " " + method.getName() + "(";
+            check.holds(method + " bears the name of a public one", !Modifier.isPrivate(method.getModifiers())
+                    || FACE.stream().noneMatch(signature -> signature.contains(name)));
         }
     }
 

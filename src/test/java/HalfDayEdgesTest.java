@@ -49,7 +49,7 @@ public final class HalfDayEdgesTest {
     private void checkSoManyBlocks() {
         for (int blocks = 1; blocks <= 12; blocks++) {
             check.part("a move of " + blocks + " blocks, as many as there are");
-            BallastClub club = Clubs.of(1, 50, blocks, 0);
+            NotedClub club = Clubs.of(1, 50, blocks, 0);
             check.due("order", club.order(0, 0, 1, blocks, 0), 0);
             check.due("pass(1)", club.pass(1), 0);
             checkMoves(club, 1, 0, 5 + 2 * blocks);
@@ -69,7 +69,7 @@ public final class HalfDayEdgesTest {
     private void checkRoomForBlocks() {
         for (int blocks = 1; blocks <= 12; blocks++) {
             check.part("a move of " + blocks + " blocks, up to 12");
-            BallastClub club = Clubs.of(1, 50, 12 - blocks, 12);
+            NotedClub club = Clubs.of(1, 50, 12 - blocks, 12);
             check.due("order", club.order(0, 1, 0, blocks, 0), 0);
             club.pass(1);
             checkMoves(club, 1, 0, 5 + 2 * blocks);
@@ -85,14 +85,14 @@ public final class HalfDayEdgesTest {
 
     private void checkNeitherBlocksNorRoom() {
         check.part("neither blocks nor room");
-        BallastClub club = Clubs.of(1, 50, 0, 12);
+        NotedClub club = Clubs.of(1, 50, 0, 12);
         club.order(0, 0, 1, 12, 0);
         club.pass(1);
         checkMoves(club, 0, 1, 5);
         checkBlocks(club, 0, 12);
     }
 
-    private void checkMoves(BallastClub club, int done, int failed, int paid) {
+    private void checkMoves(NotedClub club, int done, int failed, int paid) {
         check.due("done", club.count(9), done);
         check.due("failed", club.count(10), failed);
         check.due("open", club.count(8), 0);
@@ -102,7 +102,7 @@ public final class HalfDayEdgesTest {
         check.due("move(0, 0)", club.move(0, 0), UNKNOWN);
     }
 
-    private void checkBlocks(BallastClub club, int... blocks) {
+    private void checkBlocks(NotedClub club, int... blocks) {
         int all = 0;
         for (int machine = 0; machine < blocks.length; machine++) {
             check.due("machine(" + machine + ", 1)", club.machine(machine, 1), blocks[machine]);
@@ -113,7 +113,7 @@ public final class HalfDayEdgesTest {
 
     private void checkBlocksOfOthers() {
         check.part("the blocks of other machines don't count");
-        BallastClub club = Clubs.of(1, 50, 12, 3, 12, 4, 12);
+        NotedClub club = Clubs.of(1, 50, 12, 3, 12, 4, 12);
         club.order(0, 1, 3, 3, 0);
         club.order(0, 1, 3, 1, 0);
         club.order(0, 2, 4, 1, 0);
@@ -127,7 +127,7 @@ public final class HalfDayEdgesTest {
     /** "The open moves for it, by their numbers" */
     private void checkMovesByTheirNumbers() {
         check.part("the first one makes the second one possible");
-        BallastClub club = Clubs.of(1, 50, 12, 0, 12);
+        NotedClub club = Clubs.of(1, 50, 12, 0, 12);
         club.order(0, 0, 1, 12, 0);
         club.order(0, 2, 0, 12, 0);
         club.order(0, 1, 2, 12, 0);
@@ -157,7 +157,7 @@ public final class HalfDayEdgesTest {
     /** Moves for the present half day, not for the one behind it. */
     private void checkMovesOfItAlone() {
         check.part("the moves for it");
-        BallastClub club = Clubs.of(1, 50, 12, 0);
+        NotedClub club = Clubs.of(1, 50, 12, 0);
         club.order(0, 0, 1, 1, 2);
         club.order(0, 0, 1, 2, 1);
         club.order(0, 0, 1, 4, 0);
@@ -179,7 +179,7 @@ public final class HalfDayEdgesTest {
     /** The bookings find the machines as the moves of the same half day left them. */
     private void checkMovesFirst() {
         check.part("moves ahead of bookings");
-        BallastClub club = Clubs.of(1, 50, 1, 0);
+        NotedClub club = Clubs.of(1, 50, 1, 0);
         check.due("book", club.book(0, 0, 0, 257, 20), 0);
         club.order(0, 0, 1, 1, 0);
         check.due("pass(1)", club.pass(1), 0);
@@ -197,7 +197,7 @@ public final class HalfDayEdgesTest {
 
     private void checkNotedAtFirst() {
         check.part("none is noted at first");
-        BallastClub club = Clubs.of(2, 50, 1, 0);
+        NotedClub club = Clubs.of(2, 50, 1, 0);
         check.due("a new machine", club.machine(0, 5), NONE);
         club.order(1, 0, 1, 1, 1);
         check.due("an open move", club.machine(0, 5), NONE);
@@ -211,7 +211,7 @@ public final class HalfDayEdgesTest {
 
     private void checkNotedLatest() {
         check.part("the latest one is noted");
-        BallastClub club = Clubs.of(3, 50, 3, 0);
+        NotedClub club = Clubs.of(3, 50, 3, 0);
         club.order(2, 0, 1, 1, 0);
         club.order(0, 0, 1, 1, 0);
         club.order(1, 0, 1, 9, 0);
@@ -233,7 +233,7 @@ public final class HalfDayEdgesTest {
         for (int radius = 6; radius <= 60; radius++) {
             check.part("a load at what is borne behind a move, radius " + radius);
             int behind = Math.min(500, 5000 / radius);
-            BallastClub club = Clubs.of(2, 50, 10, 0);
+            NotedClub club = Clubs.of(2, 50, 10, 0);
             check.due("book", club.book(0, 0, 0, behind, radius), 0);
             club.order(1, 0, 1, 10, 0);
             check.due("fate(0)", club.fate(0), 0);
@@ -258,7 +258,7 @@ public final class HalfDayEdgesTest {
     /** "but at most strength * 10": ballast that isn't needed may go. */
     private void checkLoadAtTheCap() {
         check.part("a load at the cap");
-        BallastClub club = Clubs.of(1, 50, 12, 0);
+        NotedClub club = Clubs.of(1, 50, 12, 0);
         check.due("book", club.book(0, 0, 0, 500, 10), 0);
         check.due("book", club.book(0, 0, 1, 500, 11), 1);
         club.order(0, 0, 1, 12, 0);
@@ -271,7 +271,7 @@ public final class HalfDayEdgesTest {
     /** "the member who is noted for the machine caused it"; "Whoever caused a standby pays 8 coins." */
     private void checkNotedMemberPays() {
         check.part("the noted member pays");
-        BallastClub club = Clubs.of(3, 50, 2, 0, 1);
+        NotedClub club = Clubs.of(3, 50, 2, 0, 1);
         club.book(0, 0, 1, 265, 20);
         club.book(1, 2, 1, 257, 20);
         club.order(2, 0, 1, 1, 0);
@@ -293,7 +293,7 @@ public final class HalfDayEdgesTest {
     /** "if the wind is greater than the wind limit of the lift, it is on standby" */
     private void checkWindAtTheLimit() {
         check.part("wind at the limit");
-        BallastClub club = Clubs.of(1, 50, 0);
+        NotedClub club = Clubs.of(1, 50, 0);
         check.due("book", club.book(0, 0, 0, 100, 20), 0);
         check.due("limit", club.booking(0, 8), 45);
         club.setWind(0, 45);
@@ -310,7 +310,7 @@ public final class HalfDayEdgesTest {
 
     private void checkWindAtTheLeastLimit() {
         check.part("wind at the least limit");
-        BallastClub club = Clubs.of(1, 200, 12);
+        NotedClub club = Clubs.of(1, 200, 12);
         club.book(0, 0, 0, 2000, 2);
         check.due("limit", club.booking(0, 8), 10);
         club.setWind(0, 10);
@@ -324,7 +324,7 @@ public final class HalfDayEdgesTest {
     /** "Its own member caused it if the accepted wind was greater than the limit, too; otherwise nobody did." */
     private void checkAcceptedAtTheLimit() {
         check.part("accepted wind at the limit");
-        BallastClub club = Clubs.of(1, 50, 0);
+        NotedClub club = Clubs.of(1, 50, 0);
         club.setWind(0, 45);
         club.book(0, 0, 0, 100, 20);
         club.setWind(0, 99);
@@ -348,7 +348,7 @@ public final class HalfDayEdgesTest {
     /** What was accepted counts only if the wind is too strong now. */
     private void checkAcceptedAlone() {
         check.part("accepted wind without wind");
-        BallastClub club = Clubs.of(1, 50, 0);
+        NotedClub club = Clubs.of(1, 50, 0);
         club.setWind(0, 99);
         club.book(0, 0, 0, 100, 20);
         club.setWind(0, 45);
@@ -361,7 +361,7 @@ public final class HalfDayEdgesTest {
     private void checkBallastAheadOfWind() {
         check.part("both ballast and wind");
         for (int wind : new int[] {0, 99}) {
-            BallastClub club = Clubs.of(2, 50, 1, 0);
+            NotedClub club = Clubs.of(2, 50, 1, 0);
             club.setWind(0, wind);
             club.book(0, 0, 0, 257, 20);
             club.setWind(0, 99);
@@ -379,8 +379,8 @@ public final class HalfDayEdgesTest {
     // ---- carried over
 
     /** A booking for half day 0 and more for the next ones, as many as told; half day 0 will be too windy. */
-    private static BallastClub booked(int following) {
-        BallastClub club = Clubs.of(1, 50, 0);
+    private static NotedClub booked(int following) {
+        NotedClub club = Clubs.of(1, 50, 0);
         for (int halfDay = 0; halfDay <= following; halfDay++) {
             club.book(0, 0, halfDay, 1, 2);
         }
@@ -392,7 +392,7 @@ public final class HalfDayEdgesTest {
     private void checkCarriedToEach() {
         for (int following = 0; following <= 8; following++) {
             check.part(following + " of the next half days are booked");
-            BallastClub club = booked(following);
+            NotedClub club = booked(following);
             check.due("pass(1)", club.pass(1), 0);
             check.due("its half day", club.booking(0, 2), following + 1);
             check.due("its machine", club.booking(0, 1), 0);
@@ -403,13 +403,13 @@ public final class HalfDayEdgesTest {
         }
         for (int free = 1; free <= 9; free++) {
             check.part("half day " + free + " alone is free");
-            BallastClub club = booked(10);
+            NotedClub club = booked(10);
             club.cancel(free);
             club.pass(1);
             check.due("its half day", club.booking(0, 2), free);
         }
         check.part("half days 4 and 7 are free");
-        BallastClub club = booked(10);
+        NotedClub club = booked(10);
         club.cancel(7);
         club.cancel(4);
         club.pass(1);
@@ -419,7 +419,7 @@ public final class HalfDayEdgesTest {
     /** "if there is none, it is given up" */
     private void checkNotCarriedTooFar() {
         check.part("9 of the next half days are booked");
-        BallastClub club = booked(9);
+        NotedClub club = booked(9);
         check.due("bookedAt(0, 10)", club.bookedAt(0, 10), NONE);
         check.due("pass(1)", club.pass(1), 0);
         check.due("given up", club.booking(0, 5), 2);
@@ -435,7 +435,7 @@ public final class HalfDayEdgesTest {
     /** "for which there is no booking in the state 0": others leave room. */
     private void checkWhatLeavesRoom() {
         check.part("bookings that are ended leave room");
-        BallastClub club = booked(9);
+        NotedClub club = booked(9);
         club.cancel(1);
         club.book(0, 0, 1, 1, 2);
         club.pass(1);
@@ -452,7 +452,7 @@ public final class HalfDayEdgesTest {
 
     private void checkOtherMachinesLeaveRoom() {
         check.part("other machines leave room");
-        BallastClub club = Clubs.of(1, 50, 0, 0);
+        NotedClub club = Clubs.of(1, 50, 0, 0);
         for (int halfDay = 0; halfDay <= 9; halfDay++) {
             club.book(0, 1, halfDay, 1, 2);
         }
@@ -469,7 +469,7 @@ public final class HalfDayEdgesTest {
         for (int present = 188; present <= 198; present++) {
             check.part("carried over from " + present);
             int last = Math.min(present + 9, 199);
-            BallastClub club = Clubs.passTo(Clubs.of(1, 50, 0), present);
+            NotedClub club = Clubs.passTo(Clubs.of(1, 50, 0), present);
             for (int halfDay = present; halfDay < last; halfDay++) {
                 club.book(0, 0, halfDay, 1, 2);
             }
@@ -488,7 +488,7 @@ public final class HalfDayEdgesTest {
     /** booking(): "the last one that it had, if it is not booked any more" */
     private void checkGivenUpAsItWas() {
         check.part("given up");
-        BallastClub club = booked(9);
+        NotedClub club = booked(9);
         club.setWind(0, 98);
         club.pass(1);
         int[] told = {0, 0, 0, 1, 2, 2, 0, 1, 59};
@@ -511,7 +511,7 @@ public final class HalfDayEdgesTest {
     /** A booking that is carried over may be on standby the next half day, within one call of pass(). */
     private void checkCarriedAgainAndAgain() {
         check.part("carried over again and again");
-        BallastClub club = Clubs.of(1, 50, 0);
+        NotedClub club = Clubs.of(1, 50, 0);
         Clubs.type(club, "0:60;1:60;2:60;3:60;4:60;5:60;6:60;7:60;8:60;9:60;10:60");
         check.due("readWinds()", club.readWinds(), 11);
         club.book(0, 0, 0, 1, 2);
@@ -529,7 +529,7 @@ public final class HalfDayEdgesTest {
     /** "notes the wind that was told for its half day when it got this half day" */
     private void checkAcceptedWhenCarried() {
         check.part("accepted when carried over");
-        BallastClub club = Clubs.of(1, 50, 0);
+        NotedClub club = Clubs.of(1, 50, 0);
         club.book(0, 0, 0, 100, 20);
         check.due("booked at no wind", club.booking(0, 6), 0);
         club.setWind(0, 50);
@@ -551,7 +551,7 @@ public final class HalfDayEdgesTest {
     /** All five machines have a booking on standby in one half day. */
     private void checkManyOnStandby() {
         check.part("five bookings on standby");
-        BallastClub club = Clubs.of(5, 50, 0, 1, 0, 0, 0);
+        NotedClub club = Clubs.of(5, 50, 0, 1, 0, 0, 0);
         club.setWind(3, 60);
         for (int booking = 0; booking < 5; booking++) {
             club.book(booking, 4 - booking, 3, booking == 3 ? 257 : 1, booking == 3 ? 20 : 2);
@@ -575,7 +575,7 @@ public final class HalfDayEdgesTest {
     /** "Returns how many lifts are done in them", up to all that can be booked. */
     private void checkLiftsAreCounted() {
         check.part("30 lifts");
-        BallastClub club = Clubs.of(1, 50, 0, 0, 0, 0, 0);
+        NotedClub club = Clubs.of(1, 50, 0, 0, 0, 0, 0);
         check.due("no bookings", club.pass(1), 0);
         for (int booking = 0; booking < 30; booking++) {
             club.book(0, booking % 5, 2 + booking / 5, 1, 2);
@@ -594,8 +594,8 @@ public final class HalfDayEdgesTest {
     /** "Lets half days pass, one after the other": as by as many calls for one half day each. */
     private void checkOneAfterTheOther() {
         check.part("one after the other");
-        BallastClub once = busy();
-        BallastClub often = busy();
+        NotedClub once = busy();
+        NotedClub often = busy();
         int lifts = 0;
         for (int passed = 0; passed < 20; passed++) {
             lifts += often.pass(1);
@@ -613,8 +613,8 @@ public final class HalfDayEdgesTest {
         }
     }
 
-    private static BallastClub busy() {
-        BallastClub club = Clubs.of(2, 50, 3, 0);
+    private static NotedClub busy() {
+        NotedClub club = Clubs.of(2, 50, 3, 0);
         for (int booking = 0; booking < 12; booking++) {
             club.book(booking % 2, booking / 6, booking % 6, 240, 20);
         }
@@ -633,7 +633,7 @@ public final class HalfDayEdgesTest {
     /** "(so the half day 199 never passes)" */
     private void checkTheLastHalfDayStays() {
         check.part("half day 199");
-        BallastClub club = Clubs.of(1, 50, 1, 0);
+        NotedClub club = Clubs.of(1, 50, 1, 0);
         club.book(0, 0, 199, 1, 2);
         club.order(0, 0, 1, 1, 199);
         Clubs.passTo(club, 199);

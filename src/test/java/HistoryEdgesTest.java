@@ -10,7 +10,7 @@ public final class HistoryEdgesTest {
 
     /** One call of a club. */
     private interface Call {
-        int on(BallastClub club);
+        int on(NotedClub club);
     }
 
     /** A call, by its name. */
@@ -47,7 +47,7 @@ public final class HistoryEdgesTest {
 
     private void checkEmptyHistory() {
         check.part("an empty history");
-        BallastClub club = new BallastClub();
+        NotedClub club = new NotedClub();
         check.due("count(15)", club.count(15), 0);
         check.due("undo()", club.undo(), NONE);
         check.due("undo() again", club.undo(), NONE);
@@ -62,7 +62,7 @@ public final class HistoryEdgesTest {
     private void checkOneToFourStates() {
         for (int states = 1; states <= 4; states++) {
             check.part(states + " states");
-            BallastClub club = new BallastClub();
+            NotedClub club = new NotedClub();
             for (int act = 0; act < states; act++) {
                 check.due("addMember()", club.addMember(), act);
                 check.due("count(15)", club.count(15), act + 1);
@@ -81,7 +81,7 @@ public final class HistoryEdgesTest {
     private void checkTheOldestIsDropped() {
         for (int acts = 4; acts <= 14; acts++) {
             check.part(acts + " acts");
-            BallastClub club = new BallastClub();
+            NotedClub club = new NotedClub();
             for (int act = 1; act <= acts; act++) {
                 club.setWind(9, act);
                 check.due("count(15)", club.count(15), Math.min(act, 4));
@@ -99,7 +99,7 @@ public final class HistoryEdgesTest {
     private void checkActsBehindUndo() {
         for (int undone = 1; undone <= 4; undone++) {
             check.part("acts behind " + undone + " calls of undo()");
-            BallastClub club = new BallastClub();
+            NotedClub club = new NotedClub();
             for (int act = 1; act <= 7; act++) {
                 club.setWind(9, act);
             }
@@ -128,8 +128,8 @@ public final class HistoryEdgesTest {
      * Machines 0 and 1, members 0 and 1, bookings 0 to 2, moves 0 and 1; half day 3 is the present one. One state is in
      * the history, and another one in the snapshot.
      */
-    private static BallastClub busy() {
-        BallastClub club = Clubs.of(2, 50, 5, 5);
+    private static NotedClub busy() {
+        NotedClub club = Clubs.of(2, 50, 5, 5);
         club.pass(3);
         club.book(0, 0, 3, 1, 2);
         club.book(1, 1, 4, 1, 2);
@@ -165,7 +165,7 @@ public final class HistoryEdgesTest {
                 new Named("restore", club -> club.restore()));
         for (Named act : acts) {
             check.part(act.name);
-            BallastClub club = busy();
+            NotedClub club = busy();
             check.due("count(15)", club.count(15), 1);
             String before = Told.state(club);
             check.holds("no error", act.call.on(club) >= 0);
@@ -191,7 +191,7 @@ public final class HistoryEdgesTest {
                 new Named("count", club -> club.count(0))));
         for (Named other : others) {
             check.part(other.name);
-            BallastClub club = busy();
+            NotedClub club = busy();
             String before = Told.state(club);
             check.holds("no error", other.call.on(club) >= 0);
             check.due("as many states", club.count(15), 1);
@@ -201,7 +201,7 @@ public final class HistoryEdgesTest {
 
     private void checkErrorsAreNotRecorded() {
         check.part("errors and NONE");
-        BallastClub club = Clubs.of(1, 50, 5);
+        NotedClub club = Clubs.of(1, 50, 5);
         int states = club.count(15);
         check.due("addMachine(9, 0)", club.addMachine(9, 0), BAD_VALUE);
         check.due("setWind(0, 0)", club.setWind(0, 0), NONE);
@@ -223,7 +223,7 @@ public final class HistoryEdgesTest {
     /** Acts that are no error are recorded, also if the state is the same behind them. */
     private void checkActsWithoutDifference() {
         check.part("acts without a difference");
-        BallastClub club = Clubs.of(1, 50, 5);
+        NotedClub club = Clubs.of(1, 50, 5);
         club.keep();
         check.due("restore() of the same", club.restore(), 0);
         check.due("count(15)", club.count(15), 3);
@@ -242,7 +242,7 @@ public final class HistoryEdgesTest {
     /** Tables that are full, and each of the numbers, come back. */
     private void checkUndoOfEachTable() {
         check.part("undo() in a full club");
-        BallastClub club = full();
+        NotedClub club = full();
         String before = Told.state(club);
         check.due("pass(20)", club.pass(20), 29);
         check.due("undo()", club.undo(), 3);
@@ -262,8 +262,8 @@ public final class HistoryEdgesTest {
     }
 
     /** Five machines, eight members, 30 bookings and 10 moves. */
-    private static BallastClub full() {
-        BallastClub club = Clubs.of(8, 50, 12, 9, 6, 3, 0);
+    private static NotedClub full() {
+        NotedClub club = Clubs.of(8, 50, 12, 9, 6, 3, 0);
         for (int booking = 0; booking < 30; booking++) {
             club.book(booking % 8, booking % 5, booking / 5, 250, 20);
         }
@@ -279,7 +279,7 @@ public final class HistoryEdgesTest {
 
     private void checkUndoLeavesTextAndSnapshot() {
         check.part("undo() leaves the text and the snapshot");
-        BallastClub club = Clubs.of(1, 50, 5);
+        NotedClub club = Clubs.of(1, 50, 5);
         Clubs.type(club, "1:1");
         club.keep();
         check.due("undo()", club.undo(), 1);
@@ -302,7 +302,7 @@ public final class HistoryEdgesTest {
 
     private void checkNoSnapshot() {
         check.part("no snapshot");
-        BallastClub club = new BallastClub();
+        NotedClub club = new NotedClub();
         check.due("restore()", club.restore(), NONE);
         club.addMember();
         club.pass(5);
@@ -313,12 +313,12 @@ public final class HistoryEdgesTest {
         check.due("count(15)", club.count(15), 1);
         check.due("keep()", club.keep(), 0);
         check.due("restore()", club.restore(), 0);
-        check.due("another club has none", new BallastClub().restore(), NONE);
+        check.due("another club has none", new NotedClub().restore(), NONE);
     }
 
     private void checkSnapshotOfEmptyAndFullClubs() {
         check.part("a snapshot of an empty club");
-        BallastClub club = new BallastClub();
+        NotedClub club = new NotedClub();
         String empty = Told.state(club);
         check.due("keep()", club.keep(), 0);
         check.due("no act", club.count(15), 0);
@@ -346,7 +346,7 @@ public final class HistoryEdgesTest {
     /** "Takes a snapshot of the state, in place of the one that was." */
     private void checkOneSnapshot() {
         check.part("one snapshot");
-        BallastClub club = new BallastClub();
+        NotedClub club = new NotedClub();
         for (int wind = 1; wind <= 6; wind++) {
             club.setWind(9, wind);
             check.due("keep()", club.keep(), 0);
@@ -365,7 +365,7 @@ public final class HistoryEdgesTest {
     /** "Restores the state of the snapshot, which stays. This is an act." */
     private void checkSnapshotStays() {
         check.part("the snapshot stays");
-        BallastClub club = Clubs.of(1, 50, 5);
+        NotedClub club = Clubs.of(1, 50, 5);
         club.book(0, 0, 1, 1, 2);
         club.order(0, 0, 0, 1, 1);
         club.keep();
@@ -388,7 +388,7 @@ public final class HistoryEdgesTest {
 
     private void checkRestoreLeavesTextAndHistory() {
         check.part("restore() leaves the text and the history");
-        BallastClub club = new BallastClub();
+        NotedClub club = new NotedClub();
         Clubs.type(club, "1:1");
         club.keep();
         Clubs.type(club, "2:22");
@@ -412,7 +412,7 @@ public final class HistoryEdgesTest {
     /** keep(): "Returns the present half day."; restore(): "Returns the present half day then" */
     private void checkPresentHalfDayIsReturned() {
         check.part("the present half day");
-        BallastClub club = new BallastClub();
+        NotedClub club = new NotedClub();
         check.due("keep()", club.keep(), 0);
         club.pass(7);
         check.due("restore() of an earlier one", club.restore(), 0);

@@ -13,7 +13,7 @@ public final class HistoryTest {
 
     private static void checkUndo(Check check) {
         check.part("promise 14");
-        BallastClub club = new BallastClub();
+        NotedClub club = new NotedClub();
         check.due("undo() of nothing", club.undo(), NONE);
         for (int wind = 1; wind <= 7; wind++) {
             club.setWind(0, wind);
@@ -41,7 +41,7 @@ public final class HistoryTest {
     /** Each act records the state that was before it: undo() brings all of it back. */
     private static void checkEveryAct(Check check) {
         check.part("promise 14, each act");
-        BallastClub club = busyClub();
+        NotedClub club = busyClub();
         club.keep();
         club.setWind(60, 6);
         for (int act = 0; act < 12; act++) {
@@ -55,7 +55,7 @@ public final class HistoryTest {
         }
     }
 
-    private static int actAnswer(BallastClub club, int act) {
+    private static int actAnswer(NotedClub club, int act) {
         switch (act) {
             case 0:
                 return club.addMachine(77, 7);
@@ -89,8 +89,8 @@ public final class HistoryTest {
     }
 
     /** Bookings that will be done, carried over, given up or cancelled; moves that will be done or fail. */
-    private static BallastClub busyClub() {
-        BallastClub club = new BallastClub();
+    private static NotedClub busyClub() {
+        NotedClub club = new NotedClub();
         club.addMachine(100, 10);
         club.addMachine(90, 3);
         club.addMember();
@@ -113,7 +113,7 @@ public final class HistoryTest {
 
     private static void checkSnapshot(Check check) {
         check.part("promises 15 and 16");
-        BallastClub club = busyClub();
+        NotedClub club = busyClub();
         String before = Told.all(club);
         check.refused(club, before, "restore() of nothing", club.restore(), NONE);
         String kept = Told.state(club);
@@ -143,7 +143,7 @@ public final class HistoryTest {
     /** What happens to the state behind keep() does not happen to the snapshot. */
     private static void checkSnapshotApart(Check check) {
         check.part("promise 16, apart");
-        BallastClub club = new BallastClub();
+        NotedClub club = new NotedClub();
         check.due("keep() of a new club", club.keep(), 0);
         String empty = Told.state(club);
         club.addMachine(100, 10);

@@ -1,23 +1,30 @@
-/** Long runs of calls, each answered by BallastClub as by the model, and all that is told the same behind each act. */
+/** Clubs with all their 512 calls, each answered as by the model, and all that is told the same every few calls. */
 public final class ModelRunsTest {
-    private static final int RUNS = 400;
-    private static final int CALLS = 500;
+    private static final int RUNS = 800;
+    /** Behind these, too few calls are left to ask aside. */
+    private static final int COMPARED_CALLS = 400;
+    private static final int STEPS_BETWEEN = 6;
+    /** More than the calls that the longest text takes. */
+    private static final int TEXT_CALLS = 120;
 
     private final Check check;
     private final Numbers numbers;
-    private final BallastClub club = new BallastClub();
+    private final NotedClub club = new NotedClub();
     private final ModelClub model = new ModelClub();
     /** Small clubs and short spans of time bring bookings and moves closer together. */
     private final int machines;
     private final int span;
     private final int busy;
+    /** Some clubs begin late, so that the last half days are reached. */
+    private final int late;
 
     private ModelRunsTest(Check check, int run) {
         this.check = check;
         numbers = new Numbers(run);
-        machines = numbers.from(1, 5);
-        span = numbers.once(3) ? 200 : numbers.from(2, 20);
+        machines = numbers.once(3) ? 1 : numbers.from(1, 5);
+        span = numbers.once(3) ? 200 : numbers.from(2, numbers.once(2) ? 11 : 20);
         busy = numbers.from(1, 6);
+        late = numbers.once(3) ? numbers.from(1, 15) : 0;
     }
 
     public static void main(String[] args) {
@@ -30,31 +37,37 @@ public final class ModelRunsTest {
     }
 
     private void run() {
-        for (int call = 0; call < CALLS && check.isRight(); call++) {
-            int kind = numbers.below(100);
-            if (call < 12) {
-                start(call);
-            } else if (kind < 60) {
-                act(kind);
-            } else if (kind < 70) {
-                text();
-            } else if (kind < 78) {
-                past(kind);
-            } else {
-                ask(kind);
-            }
-            if (call % 5 == 0) {
+        for (int step = 0; club.calls() < NotedClub.MOST_CALLS && check.isRight(); step++) {
+            step(step);
+            if (step % STEPS_BETWEEN == 0 && club.calls() <= COMPARED_CALLS) {
                 compare();
             }
         }
-        compare();
     }
 
-    private void start(int call) {
-        if (call < machines) {
-            addMachine();
+    private void step(int step) {
+        int kind = numbers.below(100);
+        if (step < 12 + late) {
+            start(step);
+        } else if (kind < 60) {
+            act(kind);
+        } else if (kind < 62 && club.calls() + TEXT_CALLS < NotedClub.MOST_CALLS) {
+            text();
+        } else if (kind < 72) {
+            past(kind);
         } else {
+            ask(kind);
+        }
+    }
+
+    private void start(int step) {
+        if (step < machines) {
+            addMachine();
+        } else if (step < 12) {
             check.due("addMember()", club.addMember(), model.addMember());
+        } else {
+            int halfDays = numbers.from(10, 20);
+            check.due("pass(" + halfDays + ")", club.pass(halfDays), model.pass(halfDays));
         }
     }
 
@@ -116,7 +129,7 @@ public final class ModelRunsTest {
                     club.order(member, from, to, blocks, halfDay), model.order(member, from, to, blocks, halfDay));
         } else if (kind < 43) {
             int halfDay = halfDay();
-            int wind = numbers.once(12) ? numbers.from(-1, 101) : numbers.from(10, 60);
+            int wind = numbers.once(12) ? numbers.from(-1, 101) : numbers.from(10, numbers.once(2) ? 60 : 99);
             check.due("setWind(" + halfDay + ", " + wind + ")", club.setWind(halfDay, wind),
                     model.setWind(halfDay, wind));
         } else if (kind < 48) {
@@ -168,9 +181,9 @@ public final class ModelRunsTest {
     }
 
     private void past(int kind) {
-        if (kind < 75) {
+        if (kind < 69) {
             check.due("undo()", club.undo(), model.undo());
-        } else if (kind < 77) {
+        } else if (kind < 71) {
             check.due("keep()", club.keep(), model.keep());
         } else {
             check.due("restore()", club.restore(), model.restore());
@@ -182,13 +195,13 @@ public final class ModelRunsTest {
         int radius = radius();
         int halfDay = halfDay();
         int load = load(machine, radius);
-        if (kind < 82) {
+        if (kind < 78) {
             check.due("willBear(" + machine + ", " + radius + ", " + halfDay + ")",
                     club.willBear(machine, radius, halfDay), model.willBear(machine, radius, halfDay));
-        } else if (kind < 86) {
+        } else if (kind < 83) {
             check.due("machineFor(" + halfDay + ", " + load + ", " + radius + ")",
                     club.machineFor(halfDay, load, radius), model.machineFor(halfDay, load, radius));
-        } else if (kind < 90) {
+        } else if (kind < 88) {
             check.due("windLimit(" + load + ", " + radius + ")", club.windLimit(load, radius),
                     model.windLimit(load, radius));
         } else if (kind < 94) {
@@ -202,28 +215,28 @@ public final class ModelRunsTest {
 
     private void compare() {
         for (int what = -1; what <= 17; what++) {
-            check.due("count(" + what + ")", club.count(what), model.count(what));
+            check.due("count(" + what + ")", club.aside().count(what), model.count(what));
         }
         for (int what = -1; what <= 9; what++) {
             for (int number = -1; number <= 8; number++) {
-                check.due("machine(" + number + ", " + what + ")", club.machine(number, what),
+                check.due("machine(" + number + ", " + what + ")", club.aside().machine(number, what),
                         model.machine(number, what));
-                check.due("member(" + number + ", " + what + ")", club.member(number, what),
+                check.due("member(" + number + ", " + what + ")", club.aside().member(number, what),
                         model.member(number, what));
             }
             for (int move = -1; move <= 10; move++) {
-                check.due("move(" + move + ", " + what + ")", club.move(move, what), model.move(move, what));
+                check.due("move(" + move + ", " + what + ")", club.aside().move(move, what), model.move(move, what));
             }
             for (int booking = -1; booking <= 30; booking++) {
-                check.due("booking(" + booking + ", " + what + ")", club.booking(booking, what),
+                check.due("booking(" + booking + ", " + what + ")", club.aside().booking(booking, what),
                         model.booking(booking, what));
             }
         }
         for (int booking = -1; booking <= 30; booking++) {
-            check.due("fate(" + booking + ")", club.fate(booking), model.fate(booking));
+            check.due("fate(" + booking + ")", club.aside().fate(booking), model.fate(booking));
         }
         for (int halfDay = -1; halfDay <= 200; halfDay++) {
-            check.due("wind(" + halfDay + ")", club.wind(halfDay), model.wind(halfDay));
+            check.due("wind(" + halfDay + ")", club.aside().wind(halfDay), model.wind(halfDay));
         }
     }
 }

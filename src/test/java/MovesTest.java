@@ -25,8 +25,8 @@ public final class MovesTest {
         check.finish();
     }
 
-    private static BallastClub club(int... blocks) {
-        BallastClub club = new BallastClub();
+    private static NotedClub club(int... blocks) {
+        NotedClub club = new NotedClub();
         for (int count : blocks) {
             club.addMachine(100, count);
         }
@@ -38,7 +38,7 @@ public final class MovesTest {
 
     private static void checkOrder(Check check) {
         check.part("promise 8");
-        BallastClub club = club(4, 8);
+        NotedClub club = club(4, 8);
         String before = Told.all(club);
         check.refused(club, before, "member -1", club.order(-1, 0, 1, 1, 0), UNKNOWN);
         check.refused(club, before, "member 3", club.order(3, 0, 1, 1, 0), UNKNOWN);
@@ -72,7 +72,7 @@ public final class MovesTest {
 
     private static void checkTakeBack(Check check) {
         check.part("promise 9");
-        BallastClub club = club(4, 8);
+        NotedClub club = club(4, 8);
         for (int move = 0; move < 4; move++) {
             club.order(move % 3, 0, 1, move + 1, 10 + move);
         }
@@ -101,7 +101,7 @@ public final class MovesTest {
 
     private static void checkPassErrors(Check check) {
         check.part("promise 10, errors");
-        BallastClub club = club();
+        NotedClub club = club();
         String before = Told.all(club);
         check.refused(club, before, "pass(0)", club.pass(0), BAD_VALUE);
         check.refused(club, before, "pass(21)", club.pass(21), BAD_VALUE);
@@ -123,7 +123,7 @@ public final class MovesTest {
 
     private static void checkMovesOfAHalfDay(Check check) {
         check.part("promise 10, moves");
-        BallastClub club = club(4, 10, 0);
+        NotedClub club = club(4, 10, 0);
         club.order(0, 0, 1, 2, 0);
         club.order(1, 0, 2, 3, 0);
         club.order(2, 0, 2, 2, 0);
@@ -155,7 +155,7 @@ public final class MovesTest {
     /** Of one half day by their numbers, whatever other half days stand between them. */
     private static void checkMovesInOrder(Check check) {
         check.part("promise 10, order of the moves");
-        BallastClub club = club(6, 12, 0);
+        NotedClub club = club(6, 12, 0);
         club.order(0, 2, 0, 1, 1);
         club.order(1, 1, 0, 6, 0);
         club.order(2, 0, 2, 6, 0);
@@ -175,7 +175,7 @@ public final class MovesTest {
 
     private static void checkTenMovesAtOnce(Check check) {
         check.part("promise 10, ten moves");
-        BallastClub club = club(12, 0);
+        NotedClub club = club(12, 0);
         for (int move = 0; move < 10; move++) {
             check.due("order", club.order(move % 3, 0, 1, 1, 4), move);
         }
@@ -191,7 +191,7 @@ public final class MovesTest {
 
     private static void checkNoted(Check check) {
         check.part("noted members");
-        BallastClub club = club(6, 6, 6);
+        NotedClub club = club(6, 6, 6);
         club.order(1, 0, 1, 2, 0);
         club.order(2, 0, 1, 7, 0);
         club.pass(1);
@@ -212,7 +212,7 @@ public final class MovesTest {
 
     private static void checkStandbyByBallast(Check check) {
         check.part("standby by ballast");
-        BallastClub club = club(10, 0);
+        NotedClub club = club(10, 0);
         club.book(0, 0, 0, 575, 20);
         club.book(1, 0, 1, 560, 20);
         club.order(2, 0, 1, 2, 0);
@@ -236,7 +236,7 @@ public final class MovesTest {
 
     private static void checkStandbyByWind(Check check) {
         check.part("standby by wind");
-        BallastClub club = club(10);
+        NotedClub club = club(10);
         check.due("limit", club.windLimit(400, 10), 35);
         club.setWind(1, 36);
         club.setWind(2, 35);
@@ -267,7 +267,7 @@ public final class MovesTest {
     /** Both would put it on standby: the ballast counts first. */
     private static void checkBallastBeforeWind(Check check) {
         check.part("ballast before wind");
-        BallastClub club = club(10, 0);
+        NotedClub club = club(10, 0);
         club.setWind(0, 99);
         club.book(0, 0, 0, 575, 20);
         club.order(1, 0, 1, 1, 0);
@@ -279,7 +279,7 @@ public final class MovesTest {
 
     private static void checkCarriedOver(Check check) {
         check.part("carried over");
-        BallastClub club = club(10, 10);
+        NotedClub club = club(10, 10);
         for (int halfDay = 0; halfDay < 9; halfDay++) {
             club.book(0, 0, halfDay, 1, 2);
         }
@@ -293,7 +293,7 @@ public final class MovesTest {
 
     private static void checkGivenUp(Check check) {
         check.part("given up");
-        BallastClub club = club(10);
+        NotedClub club = club(10);
         for (int halfDay = 0; halfDay < 10; halfDay++) {
             club.book(1, 0, halfDay, 1, 2);
         }
@@ -318,7 +318,7 @@ public final class MovesTest {
 
     private static void checkEndOfTime(Check check) {
         check.part("half day 199");
-        BallastClub club = club(10);
+        NotedClub club = club(10);
         for (int passed = 0; passed < 9; passed++) {
             club.pass(20);
         }
@@ -340,7 +340,7 @@ public final class MovesTest {
     /** It notes the wind of the half day that it gets, not of the one that it had. */
     private static void checkAcceptedWindWhenCarried(Check check) {
         check.part("accepted wind");
-        BallastClub club = club(10);
+        NotedClub club = club(10);
         club.setWind(0, 70);
         club.book(0, 0, 0, 1, 2);
         check.due("booking(0, 6)", club.booking(0, 6), 70);

@@ -40,10 +40,10 @@ public final class NumberEdgesTest {
     private void checkStrength() {
         check.part("strength");
         for (int strength : new int[] {LEAST, -10, 0, 9, 201, 210, GREATEST}) {
-            check.due("addMachine(" + strength + ", 0)", new BallastClub().addMachine(strength, 0), BAD_VALUE);
+            check.due("addMachine(" + strength + ", 0)", new NotedClub().addMachine(strength, 0), BAD_VALUE);
         }
         for (int strength = 10; strength <= 200; strength++) {
-            BallastClub club = new BallastClub();
+            NotedClub club = new NotedClub();
             check.due("addMachine(" + strength + ", 0)", club.addMachine(strength, 0), 0);
             check.due("its strength", club.machine(0, 0), strength);
             check.due("its blocks", club.machine(0, 1), 0);
@@ -53,11 +53,11 @@ public final class NumberEdgesTest {
     private void checkBlocks() {
         check.part("blocks");
         for (int blocks : new int[] {LEAST, -12, -1, 13, GREATEST}) {
-            check.due("addMachine(10, " + blocks + ")", new BallastClub().addMachine(10, blocks), BAD_VALUE);
-            check.due("addMachine(9, " + blocks + ")", new BallastClub().addMachine(9, blocks), BAD_VALUE);
+            check.due("addMachine(10, " + blocks + ")", new NotedClub().addMachine(10, blocks), BAD_VALUE);
+            check.due("addMachine(9, " + blocks + ")", new NotedClub().addMachine(9, blocks), BAD_VALUE);
         }
         for (int blocks = 0; blocks <= 12; blocks++) {
-            BallastClub club = new BallastClub();
+            NotedClub club = new NotedClub();
             check.due("addMachine(200, " + blocks + ")", club.addMachine(200, blocks), 0);
             check.due("its strength", club.machine(0, 0), 200);
             check.due("its blocks", club.machine(0, 1), blocks);
@@ -71,7 +71,7 @@ public final class NumberEdgesTest {
         check.part("what all machines bear");
         for (int strength = 10; strength <= 200; strength++) {
             for (int first = 0; first <= 12; first += 5) {
-                BallastClub club = new BallastClub();
+                NotedClub club = new NotedClub();
                 for (int blocks = first; blocks <= 12 && blocks < first + 5; blocks++) {
                     int machine = club.addMachine(strength, blocks);
                     checkBears(club, machine, strength, blocks);
@@ -81,7 +81,7 @@ public final class NumberEdgesTest {
     }
 
     /** Rounded down: as much goes into the dividend, and one more doesn't. */
-    private void checkBears(BallastClub club, int machine, int strength, int blocks) {
+    private void checkBears(NotedClub club, int machine, int strength, int blocks) {
         int moment = strength * 100 + blocks * 150;
         for (int radius = 2; radius <= 60; radius++) {
             int borne = club.bears(machine, radius);
@@ -93,7 +93,7 @@ public final class NumberEdgesTest {
 
     private void checkBearsByHand() {
         check.part("bears()");
-        BallastClub club = new BallastClub();
+        NotedClub club = new NotedClub();
         club.addMachine(10, 0);
         club.addMachine(200, 12);
         club.addMachine(10, 12);
@@ -112,7 +112,7 @@ public final class NumberEdgesTest {
 
     private void checkWindLimit() {
         check.part("all wind limits");
-        BallastClub club = new BallastClub();
+        NotedClub club = new NotedClub();
         int calls = 0;
         for (int load = 1; load <= 2000; load++) {
             for (int radius = 2; radius <= 60; radius++) {
@@ -122,7 +122,7 @@ public final class NumberEdgesTest {
                 check.due("windLimit(" + load + ", " + radius + ")", club.windLimit(load, radius), due < 10 ? 10 : due);
                 calls++;
                 if (calls % 500 == 0) {
-                    club = new BallastClub();
+                    club = new NotedClub();
                 }
             }
         }
@@ -130,7 +130,7 @@ public final class NumberEdgesTest {
 
     private void checkWindLimitByHand() {
         check.part("windLimit()");
-        BallastClub club = new BallastClub();
+        NotedClub club = new NotedClub();
         int[][] due = {{1, 2, 59}, {1, 3, 59}, {1, 4, 58}, {19, 2, 59}, {20, 2, 58}, {39, 2, 58}, {40, 2, 57},
             {1, 60, 30}, {1, 59, 31}, {379, 60, 12}, {380, 60, 11}, {399, 60, 11}, {400, 60, 10}, {419, 60, 10},
             {420, 60, 10}, {2000, 60, 10}, {2000, 2, 10}, {979, 2, 11}, {980, 2, 10}, {1000, 2, 10}};
@@ -151,7 +151,7 @@ public final class NumberEdgesTest {
 
     private void checkLoadsOfBookings() {
         check.part("load 1 to 2000");
-        BallastClub club = Clubs.of(1, 200, 12);
+        NotedClub club = Clubs.of(1, 200, 12);
         for (int load : new int[] {LEAST, -1, 0, 2001, 2002, GREATEST}) {
             check.due("book, load " + load, club.book(0, 0, 0, load, 2), BAD_VALUE);
             check.due("windLimit, load " + load, club.windLimit(load, 2), BAD_VALUE);
@@ -167,7 +167,7 @@ public final class NumberEdgesTest {
 
     private void checkRadii() {
         check.part("radius 2 to 60");
-        BallastClub club = Clubs.of(1, 200, 12);
+        NotedClub club = Clubs.of(1, 200, 12);
         for (int radius : new int[] {LEAST, -2, -1, 0, 1, 61, 62, GREATEST}) {
             check.due("book, radius " + radius, club.book(0, 0, 0, 1, radius), BAD_VALUE);
             check.due("windLimit, radius " + radius, club.windLimit(1, radius), BAD_VALUE);
@@ -187,14 +187,14 @@ public final class NumberEdgesTest {
     private void checkLoadThatIsBorneJust() {
         check.part("a load that is borne just");
         for (int radius = 2; radius <= 60; radius++) {
-            BallastClub club = Clubs.of(1, 30, 2);
+            NotedClub club = Clubs.of(1, 30, 2);
             int borne = Math.min(300, 3300 / radius);
             check.due("machineFor, one more at " + radius, club.machineFor(0, borne + 1, radius), NONE);
             check.due("machineFor at " + radius, club.machineFor(0, borne, radius), 0);
             check.due("book, one more at " + radius, club.book(0, 0, 0, borne + 1, radius), NOT_POSSIBLE);
             check.due("book at " + radius, club.book(0, 0, 0, borne, radius), 0);
         }
-        BallastClub club = Clubs.of(1, 30, 0, 2);
+        NotedClub club = Clubs.of(1, 30, 0, 2);
         club.order(0, 1, 0, 2, 0);
         check.due("open moves don't count", club.book(0, 0, 1, 151, 20), NOT_POSSIBLE);
         check.due("open moves don't count", club.book(0, 1, 1, 165, 20), 0);
@@ -206,7 +206,7 @@ public final class NumberEdgesTest {
 
     private void checkBlocksOfMoves() {
         check.part("blocks 1 to 12 of a move");
-        BallastClub club = Clubs.of(1, 50, 1, 1);
+        NotedClub club = Clubs.of(1, 50, 1, 1);
         for (int blocks : new int[] {LEAST, -12, -1, 0, 13, GREATEST}) {
             check.due("order, blocks " + blocks, club.order(0, 0, 1, blocks, 0), BAD_VALUE);
             check.due("order to the same, blocks " + blocks, club.order(0, 1, 1, blocks, 0), BAD_VALUE);
@@ -222,7 +222,7 @@ public final class NumberEdgesTest {
     /** "a wind is told (0 to 99; 0 at first)" */
     private void checkWinds() {
         check.part("wind 0 to 99");
-        BallastClub club = new BallastClub();
+        NotedClub club = new NotedClub();
         check.due("setWind(9, 0), as at first", club.setWind(9, 0), NONE);
         for (int wind : new int[] {LEAST, -1, 100, GREATEST}) {
             check.due("setWind(9, " + wind + ")", club.setWind(9, wind), BAD_VALUE);
@@ -262,7 +262,7 @@ public final class NumberEdgesTest {
         }
     }
 
-    private void checkNoHalfDay(BallastClub club, int halfDay) {
+    private void checkNoHalfDay(NotedClub club, int halfDay) {
         String at = ", half day " + halfDay + " at " + club.count(0);
         check.due("setWind" + at, club.setWind(halfDay, 5), UNKNOWN);
         check.due("setWind, wind 0" + at, club.setWind(halfDay, 0), UNKNOWN);
@@ -272,7 +272,7 @@ public final class NumberEdgesTest {
         check.due("machineFor" + at, club.machineFor(halfDay, 1, 2), UNKNOWN);
     }
 
-    private void checkHalfDay(BallastClub club, int halfDay) {
+    private void checkHalfDay(NotedClub club, int halfDay) {
         String at = ", half day " + halfDay + " at " + club.count(0);
         check.due("machineFor" + at, club.machineFor(halfDay, 1, 2), 0);
         check.due("willBear" + at, club.willBear(0, 60, halfDay), 5150 / 60);
@@ -293,7 +293,7 @@ public final class NumberEdgesTest {
     private void checkAnyHalfDays() {
         check.part("any half days");
         for (int present : new int[] {0, 1, 199}) {
-            BallastClub club = Clubs.of(0, 50, 1);
+            NotedClub club = Clubs.of(0, 50, 1);
             club.setWind(0, 7);
             Clubs.passTo(club, present);
             for (int halfDay : new int[] {LEAST, -1, 200, GREATEST}) {
@@ -312,10 +312,10 @@ public final class NumberEdgesTest {
     private void checkPassed() {
         check.part("half days 1 to 20 that pass");
         for (int halfDays : new int[] {LEAST, -20, -1, 0, 21, GREATEST - 1, GREATEST}) {
-            check.due("pass(" + halfDays + ")", new BallastClub().pass(halfDays), BAD_VALUE);
+            check.due("pass(" + halfDays + ")", new NotedClub().pass(halfDays), BAD_VALUE);
         }
         for (int halfDays = 1; halfDays <= 20; halfDays++) {
-            BallastClub club = new BallastClub();
+            NotedClub club = new NotedClub();
             check.due("pass(" + halfDays + ")", club.pass(halfDays), 0);
             check.due("count(0)", club.count(0), halfDays);
             check.due("count(15)", club.count(15), 1);
@@ -326,12 +326,12 @@ public final class NumberEdgesTest {
         check.part("half day 199 never passes");
         for (int present = 179; present <= 199; present++) {
             for (int halfDays = 1; halfDays <= 20; halfDays++) {
-                BallastClub club = Clubs.passTo(new BallastClub(), present);
+                NotedClub club = Clubs.passTo(new NotedClub(), present);
                 boolean isPossible = present + halfDays <= 199;
                 check.due("pass(" + halfDays + ") at " + present, club.pass(halfDays), isPossible ? 0 : NOT_POSSIBLE);
                 check.due("count(0)", club.count(0), isPossible ? present + halfDays : present);
             }
-            BallastClub club = Clubs.passTo(new BallastClub(), present);
+            NotedClub club = Clubs.passTo(new NotedClub(), present);
             check.due("pass(21) at " + present, club.pass(21), BAD_VALUE);
             check.due("pass(0) at " + present, club.pass(0), BAD_VALUE);
         }
@@ -341,7 +341,7 @@ public final class NumberEdgesTest {
 
     private void checkWhat() {
         check.part("what is told");
-        BallastClub club = Clubs.of(1, 50, 1, 1);
+        NotedClub club = Clubs.of(1, 50, 1, 1);
         club.book(0, 0, 0, 1, 2);
         club.order(0, 0, 1, 1, 0);
         for (int what : new int[] {LEAST, -2, -1, 17, 18, GREATEST}) {
@@ -367,7 +367,7 @@ public final class NumberEdgesTest {
     /** "An object is used for at most 512 calls": the last one of them is answered as the first one. */
     private void checkManyCalls() {
         check.part("512 calls");
-        BallastClub club = new BallastClub();
+        NotedClub club = new NotedClub();
         for (int call = 1; call <= 510; call++) {
             int wind = 1 + call % 99;
             check.due("setWind, call " + call, club.setWind(199, wind), call == 1 ? 0 : 1 + (call - 1) % 99);

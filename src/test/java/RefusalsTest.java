@@ -17,12 +17,12 @@ public final class RefusalsTest {
 
     /** A call with its arguments. */
     private interface Call {
-        int on(BallastClub club, int... arguments);
+        int on(NotedClub club, int... arguments);
     }
 
     /** The error of arguments of which each one is good; it may ask a club of the situation. */
     private interface Later {
-        int error(BallastClub club, int... arguments);
+        int error(NotedClub club, int... arguments);
     }
 
     /** The numbers that are tried as an argument, and the error of those outside the bounds. */
@@ -47,7 +47,7 @@ public final class RefusalsTest {
         this.check = check;
         check.part(name);
         situation = new Situation(name, story);
-        BallastClub club = situation.club();
+        NotedClub club = situation.club();
         for (int what = 0; what < counts.length; what++) {
             check.due("count(" + what + ")", club.count(what), counts[what]);
         }
@@ -78,7 +78,7 @@ public final class RefusalsTest {
     // ---- the situations
 
     /** Bookings in each of the states, one that its machine bears no more, open moves, a text and a snapshot. */
-    private static void tellInUse(BallastClub club) {
+    private static void tellInUse(NotedClub club) {
         club.addMachine(30, 0);
         club.addMachine(200, 12);
         club.addMember();
@@ -99,7 +99,7 @@ public final class RefusalsTest {
         Clubs.type(club, "4:44");
     }
 
-    private static void tellFull(BallastClub club) {
+    private static void tellFull(NotedClub club) {
         for (int machine = 0; machine < 5; machine++) {
             club.addMachine(machine % 2 == 0 ? 200 : 10, 12 - 3 * machine);
         }
@@ -119,7 +119,7 @@ public final class RefusalsTest {
         Clubs.type(club, "3:33;4:44;5:55;6:66;7:77;8:88;9:99;10:10;11:11;12:12;13:0;14");
     }
 
-    private static void tellLate(BallastClub club) {
+    private static void tellLate(NotedClub club) {
         club.addMachine(50, 5);
         club.addMachine(50, 5);
         club.addMember();
@@ -209,7 +209,7 @@ public final class RefusalsTest {
     }
 
     /** Whether the machine of one booking bears the load of the other one. */
-    private static boolean bears(BallastClub club, int one, int other) {
+    private static boolean bears(NotedClub club, int one, int other) {
         return club.booking(other, 3) <= club.bears(club.booking(one, 1), club.booking(other, 4));
     }
 
@@ -296,7 +296,7 @@ public final class RefusalsTest {
     }
 
     private void checkAccepted(String words, Call call, int[] numbers) {
-        BallastClub club = situation.club();
+        NotedClub club = situation.club();
         int states = club.count(15);
         int answer = call.on(club, numbers);
         check.holds(words + " answered " + answer, answer >= 0);

@@ -8,12 +8,12 @@ import java.util.List;
 final class Situation {
     /** Brings a new club into the situation, by at most 120 calls. */
     interface Story {
-        void tell(BallastClub club);
+        void tell(NotedClub club);
     }
 
     /** One call of a club. */
     interface Call {
-        int on(BallastClub club);
+        int on(NotedClub club);
     }
 
     /** A call that must change nothing, and the error that is due; no error is due if that is null. */
@@ -40,8 +40,8 @@ final class Situation {
         }
     }
 
-    BallastClub club() {
-        BallastClub club = new BallastClub();
+    NotedClub club() {
+        NotedClub club = new NotedClub();
         story.tell(club);
         return club;
     }
@@ -61,7 +61,7 @@ final class Situation {
     }
 
     private void checkAnswers(Check check, List<Idle> calls) {
-        BallastClub club = club();
+        NotedClub club = club();
         for (Idle one : calls) {
             int answer = one.call.on(club);
             if (one.due != null) {
@@ -75,7 +75,7 @@ final class Situation {
     private boolean changes(List<Idle> calls) {
         for (int past = 0; past < PASTS; past++) {
             for (int part = 0; part < PARTS; part++) {
-                BallastClub club = club();
+                NotedClub club = club();
                 for (Idle one : calls) {
                     one.call.on(club);
                 }
@@ -87,7 +87,7 @@ final class Situation {
         return false;
     }
 
-    private static List<Integer> tell(BallastClub club, int past, int part) {
+    private static List<Integer> tell(NotedClub club, int past, int part) {
         List<Integer> answers = new ArrayList<>();
         if (past == RESTORED) {
             answers.add(club.restore());
@@ -105,7 +105,7 @@ final class Situation {
         return answers;
     }
 
-    private static void tellCountsAndWinds(BallastClub club, List<Integer> answers) {
+    private static void tellCountsAndWinds(NotedClub club, List<Integer> answers) {
         for (int what = 0; what <= 16; what++) {
             answers.add(club.count(what));
         }
@@ -114,7 +114,7 @@ final class Situation {
         }
     }
 
-    private static void tellMachinesMembersAndMoves(BallastClub club, List<Integer> answers) {
+    private static void tellMachinesMembersAndMoves(NotedClub club, List<Integer> answers) {
         for (int what = 0; what <= 6; what++) {
             for (int machine = 0; machine <= 5; machine++) {
                 answers.add(club.machine(machine, what));
@@ -128,7 +128,7 @@ final class Situation {
         }
     }
 
-    private static void tellBookings(BallastClub club, List<Integer> answers) {
+    private static void tellBookings(NotedClub club, List<Integer> answers) {
         for (int booking = 0; booking <= 30; booking++) {
             for (int what = 0; what <= 8; what++) {
                 answers.add(club.booking(booking, what));
@@ -137,7 +137,7 @@ final class Situation {
         }
     }
 
-    private static void tellBookedAt(BallastClub club, List<Integer> answers) {
+    private static void tellBookedAt(NotedClub club, List<Integer> answers) {
         int first = Math.max(club.count(0) - 10, 0);
         for (int machine = 0; machine <= 4; machine++) {
             for (int halfDay = first; halfDay < first + 50; halfDay++) {
@@ -149,7 +149,7 @@ final class Situation {
     }
 
     /** What the text says shows in what reading it does. */
-    private static void tellText(BallastClub club, List<Integer> answers) {
+    private static void tellText(NotedClub club, List<Integer> answers) {
         answers.add(club.readWinds());
         for (int halfDay = 0; halfDay < 200; halfDay++) {
             answers.add(club.wind(halfDay));

@@ -1,10 +1,12 @@
 import java.io.IOException;
+import java.lang.reflect.Modifier;
 import java.nio.file.Files;
 import java.nio.file.Path;
 import java.util.regex.Matcher;
 import java.util.regex.Pattern;
+import java.util.stream.Stream;
 
-/** Those rules of LANGUAGE.md that can be read off the words of the source. Runs in the project's folder. */
+/** Those rules of LANGUAGE.md that the source's words or the compiled class show. Runs in the project's folder. */
 public final class SourceRulesTest {
     private static final Path SOURCE = Path.of("src", "main", "java", "BallastClub.java");
     private static final String[] BANNED_WORDS = {
@@ -21,6 +23,7 @@ public final class SourceRulesTest {
         checkBanned(check, code);
         checkStatics(check, code);
         checkLengths(check, code);
+        checkSizes(check);
         checkObjects(check, code);
         check.finish();
     }
@@ -67,6 +70,23 @@ public final class SourceRulesTest {
             }
         }
         check.holds("a method without an end", head < 0);
+    }
+
+    /** "The file has at most some twelve classes, and a class some twenty fields beside its constants." */
+    private static void checkSizes(Check check) {
+        check.part("rule 11");
+        Class<?>[] insides = BallastClub.class.getDeclaredClasses();
+        check.holds("more than twelve classes", insides.length < 12);
+        checkFields(check, BallastClub.class);
+        for (Class<?> inside : insides) {
+            checkFields(check, inside);
+        }
+    }
+
+    private static void checkFields(Check check, Class<?> one) {
+        long fields = Stream.of(one.getDeclaredFields())
+                .filter(field -> !Modifier.isStatic(field.getModifiers())).count();
+        check.holds(one + " has more than twenty fields", fields <= 20);
     }
 
     /** Stricter than the rule: objects are made by constructors alone, so that no call uses up the room. */

@@ -35,7 +35,7 @@ public final class TableEdgesTest {
     private void checkMachines() {
         for (int machines = 0; machines <= 5; machines++) {
             check.part("with " + machines + " machines");
-            BallastClub club = Clubs.of(1, 50, new int[machines]);
+            NotedClub club = Clubs.of(1, 50, new int[machines]);
             check.due("count(1)", club.count(1), machines);
             check.due("machineFor(0, 1, 2)", club.machineFor(0, 1, 2), machines == 0 ? NONE : 0);
             checkNoMachine(club, -1);
@@ -47,7 +47,7 @@ public final class TableEdgesTest {
         }
     }
 
-    private void checkMachine(BallastClub club, int machine) {
+    private void checkMachine(NotedClub club, int machine) {
         check.due("bears(" + machine + ", 2)", club.bears(machine, 2), 500);
         check.due("willBear(" + machine + ", 2, 0)", club.willBear(machine, 2, 0), 500);
         check.due("machine(" + machine + ", 0)", club.machine(machine, 0), 50);
@@ -60,7 +60,7 @@ public final class TableEdgesTest {
         check.due("order to the machine " + machine, club.order(0, other, machine, 1, 0), due < 0 ? due : due + 1);
     }
 
-    private void checkNoMachine(BallastClub club, int machine) {
+    private void checkNoMachine(NotedClub club, int machine) {
         check.due("bears(" + machine + ", 2)", club.bears(machine, 2), UNKNOWN);
         check.due("willBear(" + machine + ", 2, 0)", club.willBear(machine, 2, 0), UNKNOWN);
         check.due("machine(" + machine + ", 0)", club.machine(machine, 0), UNKNOWN);
@@ -72,7 +72,7 @@ public final class TableEdgesTest {
 
     private void checkMachinesAreFull() {
         check.part("5 machines");
-        BallastClub club = new BallastClub();
+        NotedClub club = new NotedClub();
         for (int machine = 0; machine < 5; machine++) {
             check.due("addMachine", club.addMachine(10 + machine, machine), machine);
         }
@@ -94,7 +94,7 @@ public final class TableEdgesTest {
     private void checkMembers() {
         for (int members = 0; members <= 8; members++) {
             check.part("with " + members + " members");
-            BallastClub club = Clubs.of(members, 50, 1, 1);
+            NotedClub club = Clubs.of(members, 50, 1, 1);
             check.due("count(2)", club.count(2), members);
             for (int member = 0; member < members; member++) {
                 check.due("member(" + member + ", 0)", club.member(member, 0), 0);
@@ -111,7 +111,7 @@ public final class TableEdgesTest {
 
     private void checkMembersAreFull() {
         check.part("8 members");
-        BallastClub club = Clubs.of(7, 50);
+        NotedClub club = Clubs.of(7, 50);
         check.due("the 8th", club.addMember(), 7);
         check.due("a 9th", club.addMember(), FULL);
         check.due("count(2)", club.count(2), 8);
@@ -124,7 +124,7 @@ public final class TableEdgesTest {
 
     private void checkBookings() {
         check.part("bookings one by one");
-        BallastClub club = Clubs.of(1, 50, 1);
+        NotedClub club = Clubs.of(1, 50, 1);
         checkNoBooking(club, -1);
         for (int booking = 0; booking < 30; booking++) {
             checkNoBooking(club, booking);
@@ -140,7 +140,7 @@ public final class TableEdgesTest {
         check.due("cancel(0)", club.cancel(0), 0);
     }
 
-    private void checkNoBooking(BallastClub club, int booking) {
+    private void checkNoBooking(NotedClub club, int booking) {
         check.due("cancel(" + booking + ")", club.cancel(booking), UNKNOWN);
         check.due("swap(" + booking + ", 0)", club.swap(booking, 0), UNKNOWN);
         check.due("swap(0, " + booking + ")", club.swap(0, booking), UNKNOWN);
@@ -150,8 +150,8 @@ public final class TableEdgesTest {
         check.due("fate(" + booking + ")", club.fate(booking), UNKNOWN);
     }
 
-    private static BallastClub fullOfBookings() {
-        BallastClub club = Clubs.of(1, 50, 1, 1);
+    private static NotedClub fullOfBookings() {
+        NotedClub club = Clubs.of(1, 50, 1, 1);
         for (int booking = 0; booking < 30; booking++) {
             club.book(0, 0, booking, 1, 2);
         }
@@ -160,7 +160,7 @@ public final class TableEdgesTest {
 
     private void checkBookingsAreFull() {
         check.part("30 bookings");
-        BallastClub club = fullOfBookings();
+        NotedClub club = fullOfBookings();
         check.due("a 31st", club.book(0, 1, 0, 1, 2), FULL);
         check.due("a 31st, borne just", club.book(0, 1, 0, 500, 2), FULL);
         check.due("a 31st, too heavy", club.book(0, 1, 0, 501, 2), NOT_POSSIBLE);
@@ -176,7 +176,7 @@ public final class TableEdgesTest {
     /** All bookings count, in whatever state they are. */
     private void checkEndedBookingsTakeRoom() {
         check.part("30 bookings that are ended");
-        BallastClub club = fullOfBookings();
+        NotedClub club = fullOfBookings();
         club.setWind(0, 99);
         check.due("pass(1)", club.pass(1), 0);
         check.due("given up", club.count(6), 1);
@@ -193,7 +193,7 @@ public final class TableEdgesTest {
 
     private void checkMoves() {
         check.part("moves one by one");
-        BallastClub club = Clubs.of(1, 50, 1, 1);
+        NotedClub club = Clubs.of(1, 50, 1, 1);
         checkNoMove(club, -1);
         for (int move = 0; move < 10; move++) {
             checkNoMove(club, move);
@@ -207,15 +207,15 @@ public final class TableEdgesTest {
         checkNoMove(club, 9);
     }
 
-    private void checkNoMove(BallastClub club, int move) {
+    private void checkNoMove(NotedClub club, int move) {
         check.due("takeBack(" + move + ")", club.takeBack(move), UNKNOWN);
         check.due("move(" + move + ", 0)", club.move(move, 0), UNKNOWN);
         check.due("move(" + move + ", 5)", club.move(move, 5), UNKNOWN);
     }
 
     /** Ten moves of 1 to 10 blocks: the blocks tell them apart. The one of 1 + n blocks is for half day n. */
-    private static BallastClub fullOfMoves() {
-        BallastClub club = Clubs.of(2, 50, 12, 0);
+    private static NotedClub fullOfMoves() {
+        NotedClub club = Clubs.of(2, 50, 12, 0);
         for (int move = 0; move < 10; move++) {
             club.order(0, 0, 1, 1 + move, move);
         }
@@ -224,7 +224,7 @@ public final class TableEdgesTest {
 
     private void checkMovesAreFull() {
         check.part("10 moves");
-        BallastClub club = fullOfMoves();
+        NotedClub club = fullOfMoves();
         check.due("an 11th", club.order(0, 1, 0, 1, 0), FULL);
         check.due("an 11th of 13 blocks", club.order(0, 1, 0, 13, 0), BAD_VALUE);
         check.due("an 11th to the same", club.order(0, 1, 1, 1, 0), BAD_VALUE);
@@ -235,7 +235,7 @@ public final class TableEdgesTest {
 
     private void checkRoomForMoves() {
         check.part("room for moves");
-        BallastClub club = fullOfMoves();
+        NotedClub club = fullOfMoves();
         check.due("takeBack(4)", club.takeBack(4), 9);
         check.due("room behind takeBack()", club.order(1, 1, 0, 12, 50), 9);
         check.due("and full again", club.order(1, 1, 0, 12, 50), FULL);
@@ -258,7 +258,7 @@ public final class TableEdgesTest {
     private void checkLaterMovesComeEarlier() {
         for (int taken = 0; taken < 10; taken++) {
             check.part("move " + taken + " of 10 is taken back");
-            BallastClub club = fullOfMoves();
+            NotedClub club = fullOfMoves();
             check.due("takeBack(" + taken + ")", club.takeBack(taken), 9);
             for (int move = 0; move < 9; move++) {
                 int blocks = move < taken ? move + 1 : move + 2;
@@ -272,7 +272,7 @@ public final class TableEdgesTest {
     /** The first, the last and some between are for the half day that passes; one of them fails. */
     private void checkMovesThatPassComeEarlier() {
         check.part("moves that pass");
-        BallastClub club = Clubs.of(1, 50, 12, 0);
+        NotedClub club = Clubs.of(1, 50, 12, 0);
         int[] halfDays = {0, 5, 6, 0, 0, 7, 8, 0, 9, 0};
         int[] blocks = {1, 2, 3, 12, 2, 4, 5, 3, 6, 4};
         for (int move = 0; move < 10; move++) {
@@ -295,7 +295,7 @@ public final class TableEdgesTest {
 
     private void checkOneBookingForAHalfDay() {
         check.part("one booking for a machine and a half day");
-        BallastClub club = Clubs.of(2, 50, 1, 1);
+        NotedClub club = Clubs.of(2, 50, 1, 1);
         check.due("book", club.book(0, 0, 5, 1, 2), 0);
         check.due("the same, of the same member", club.book(0, 0, 5, 1, 2), NOT_POSSIBLE);
         check.due("the same, of another member", club.book(1, 0, 5, 9, 9), NOT_POSSIBLE);
@@ -311,7 +311,7 @@ public final class TableEdgesTest {
 
     private void checkAHalfDayIsFreeAgain() {
         check.part("a half day is free again");
-        BallastClub club = Clubs.of(1, 50, 1, 1);
+        NotedClub club = Clubs.of(1, 50, 1, 1);
         club.book(0, 0, 5, 1, 2);
         club.cancel(0);
         check.due("bookedAt(0, 5), cancelled", club.bookedAt(0, 5), NONE);

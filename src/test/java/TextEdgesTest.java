@@ -48,7 +48,7 @@ public final class TextEdgesTest {
     }
 
     private void read(String text, int due) {
-        BallastClub club = Clubs.type(new BallastClub(), text);
+        NotedClub club = Clubs.type(new NotedClub(), text);
         check.due("readWinds() of \"" + text + "\"", club.readWinds(), due);
         check.due("its length \"" + text + "\"", club.count(16), text.length());
         check.due("the history behind \"" + text + "\"", club.count(15), due < 0 ? 0 : 1);
@@ -63,7 +63,7 @@ public final class TextEdgesTest {
     private void checkLengths() {
         for (int length = 0; length <= 60; length++) {
             check.part("a text of " + length + " characters");
-            BallastClub club = new BallastClub();
+            NotedClub club = new NotedClub();
             check.due("count(16), at first", club.count(16), 0);
             for (int typed = 1; typed <= length; typed++) {
                 check.due("type('1')", club.type('1'), typed);
@@ -79,7 +79,7 @@ public final class TextEdgesTest {
 
     private void checkFullText() {
         check.part("a full text");
-        BallastClub club = Clubs.type(new BallastClub(), some(60));
+        NotedClub club = Clubs.type(new NotedClub(), some(60));
         check.due("a 61st", club.type('1'), FULL);
         check.due("a 61st again", club.type((char) 0), FULL);
         check.due("count(16)", club.count(16), 60);
@@ -94,7 +94,7 @@ public final class TextEdgesTest {
     /** "any character" */
     private void checkAnyCharacter() {
         check.part("any character");
-        BallastClub club = new BallastClub();
+        NotedClub club = new NotedClub();
         char[] some = {0, 1, '\n', ' ', '~', 127, 128, 255, 256, 0xd800, 0xdc00, 0xfffe, 0xffff};
         for (int typed = 0; typed < some.length; typed++) {
             check.due("type(" + (int) some[typed] + ")", club.type(some[typed]), typed + 1);
@@ -248,7 +248,7 @@ public final class TextEdgesTest {
     }
 
     private void checkAsByPattern(String text) {
-        BallastClub club = new BallastClub();
+        NotedClub club = new NotedClub();
         for (int index = 0; index < text.length(); index++) {
             club.type(text.charAt(index));
         }
@@ -302,7 +302,7 @@ public final class TextEdgesTest {
     private void checkCounts() {
         for (int winds = 1; winds <= 15; winds++) {
             check.part(winds + " winds");
-            BallastClub club = Clubs.type(new BallastClub(), MOST_WINDS.substring(0, 4 * winds - 1));
+            NotedClub club = Clubs.type(new NotedClub(), MOST_WINDS.substring(0, 4 * winds - 1));
             check.due("readWinds()", club.readWinds(), winds);
             for (int halfDay = 0; halfDay < 10; halfDay++) {
                 int due = halfDay >= winds ? 0 : halfDay + 10 < winds ? 2 : 1;
@@ -329,7 +329,7 @@ public final class TextEdgesTest {
     private void checkHalfDaysThatAreOver() {
         for (int present : new int[] {1, 10, 199}) {
             check.part("half days of the text at " + present);
-            BallastClub club = Clubs.passTo(new BallastClub(), present);
+            NotedClub club = Clubs.passTo(new NotedClub(), present);
             int over = present - 1;
             String[] wrong = {over + ":5", "0:5", over + ":0", "199:5;" + over + ":5", over + ":5;199:5", "200:5"};
             for (String text : wrong) {
@@ -349,7 +349,7 @@ public final class TextEdgesTest {
         fault("200:500", 6);
         fault("999:5x", 5);
         fault("200", 3);
-        BallastClub club = Clubs.passTo(new BallastClub(), 5);
+        NotedClub club = Clubs.passTo(new NotedClub(), 5);
         check.due("over, and a fault", Clubs.type(club, "4:5;5").readWinds(), -105);
         check.due("over", Clubs.type(club, "4:5;5:5").readWinds(), UNKNOWN);
     }
@@ -357,7 +357,7 @@ public final class TextEdgesTest {
     /** "all of them, or none" */
     private void checkAllOrNone() {
         check.part("all of them, or none");
-        BallastClub club = Clubs.passTo(new BallastClub(), 5);
+        NotedClub club = Clubs.passTo(new NotedClub(), 5);
         club.setWind(7, 70);
         String[] wrong = {"7:1;8:1;200:1", "7:1;8:1;4:1", "7:1;8:1;9", "7:1;8:1;", "7:1;8:1;9:1;10:1;05:1"};
         for (String text : wrong) {
@@ -372,7 +372,7 @@ public final class TextEdgesTest {
     /** "one after the other, as setWind() does" */
     private void checkOneAfterTheOther() {
         check.part("one after the other");
-        BallastClub club = Clubs.type(new BallastClub(), "7:1;8:99;7:2;0:5;7:0;0:6;7:3");
+        NotedClub club = Clubs.type(new NotedClub(), "7:1;8:99;7:2;0:5;7:0;0:6;7:3");
         check.due("readWinds()", club.readWinds(), 7);
         check.due("wind(7)", club.wind(7), 3);
         check.due("wind(8)", club.wind(8), 99);
@@ -385,7 +385,7 @@ public final class TextEdgesTest {
     /** "This is one act, also if nothing becomes different." */
     private void checkOneAct() {
         check.part("one act");
-        BallastClub club = Clubs.type(new BallastClub(), MOST_WINDS);
+        NotedClub club = Clubs.type(new NotedClub(), MOST_WINDS);
         check.due("readWinds()", club.readWinds(), 15);
         check.due("count(15)", club.count(15), 1);
         check.due("readWinds(), nothing different", club.readWinds(), 15);
@@ -404,7 +404,7 @@ public final class TextEdgesTest {
     /** "Tells the winds of the text, which stays" */
     private void checkTextStays() {
         check.part("the text stays");
-        BallastClub club = Clubs.type(new BallastClub(), "7:1");
+        NotedClub club = Clubs.type(new NotedClub(), "7:1");
         check.due("readWinds()", club.readWinds(), 1);
         check.due("count(16)", club.count(16), 3);
         check.due("type('2')", club.type('2'), 4);
@@ -427,7 +427,7 @@ public final class TextEdgesTest {
 
     private void checkBookingsStay() {
         check.part("accepted winds stay");
-        BallastClub club = Clubs.of(1, 50, 0);
+        NotedClub club = Clubs.of(1, 50, 0);
         club.book(0, 0, 7, 1, 2);
         Clubs.type(club, "7:70").readWinds();
         check.due("of an earlier booking", club.booking(0, 6), 0);

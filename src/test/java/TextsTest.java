@@ -13,7 +13,7 @@ public final class TextsTest {
         check.finish();
     }
 
-    private static void typeAll(BallastClub club, String text) {
+    private static void typeAll(NotedClub club, String text) {
         club.clearText();
         for (int index = 0; index < text.length(); index++) {
             club.type(text.charAt(index));
@@ -22,7 +22,7 @@ public final class TextsTest {
 
     private static void checkTyping(Check check) {
         check.part("promises 11 and 12");
-        BallastClub club = new BallastClub();
+        NotedClub club = new NotedClub();
         char[] some = {'a', (char) 0, '\uffff', '1', ' '};
         for (int length = 0; length < 60; length++) {
             check.due("type", club.type(some[length % some.length]), length + 1);
@@ -54,14 +54,14 @@ public final class TextsTest {
             {"123:45;123:45;123:45;123:45;123:45;123:45;123:45;123:45;123:", 60},
             {"123:45;123:45;123:45;123:45;123:45;123:45;123:45;123:45;1:1;", 60}};
         for (Object[] fault : faults) {
-            BallastClub club = new BallastClub();
+            NotedClub club = new NotedClub();
             String text = (String) fault[0];
             typeAll(club, text);
             String before = Told.all(club);
             check.refused(club, before, "readWinds() of \"" + text + "\"", club.readWinds(), -100 - (int) fault[1]);
         }
         for (int sign = 0; sign < 65536; sign += sign < 300 ? 1 : 97) {
-            BallastClub club = new BallastClub();
+            NotedClub club = new NotedClub();
             club.type((char) sign);
             check.due("a text of the sign " + sign, club.readWinds(), sign >= '0' && sign <= '9' ? -101 : -100);
         }
@@ -69,7 +69,7 @@ public final class TextsTest {
 
     private static void checkReading(Check check) {
         check.part("promise 13");
-        BallastClub club = new BallastClub();
+        NotedClub club = new NotedClub();
         typeAll(club, "0:0");
         check.due("readWinds(), nothing different", club.readWinds(), 1);
         check.due("an act all the same", club.count(15), 1);
@@ -109,7 +109,7 @@ public final class TextsTest {
 
     private static void checkReadingIsOneAct(Check check) {
         check.part("promise 13, one act");
-        BallastClub club = new BallastClub();
+        NotedClub club = new NotedClub();
         club.addMachine(100, 0);
         club.addMember();
         club.book(0, 0, 2, 1, 2);
@@ -127,7 +127,7 @@ public final class TextsTest {
 
     private static void checkOverHalfDays(Check check) {
         check.part("promise 13, over");
-        BallastClub club = new BallastClub();
+        NotedClub club = new NotedClub();
         club.pass(5);
         typeAll(club, "5:1;4:1");
         String before = Told.all(club);

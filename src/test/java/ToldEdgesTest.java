@@ -39,7 +39,7 @@ public final class ToldEdgesTest {
         return (6000 + 150 * blocks) / 60;
     }
 
-    private void willBear(BallastClub club, int halfDay, int... blocks) {
+    private void willBear(NotedClub club, int halfDay, int... blocks) {
         for (int machine = 0; machine < blocks.length; machine++) {
             check.due("willBear(" + machine + ", 60, " + halfDay + ")", club.willBear(machine, 60, halfDay),
                     borne(blocks[machine]));
@@ -51,7 +51,7 @@ public final class ToldEdgesTest {
     /** "behind all open moves for a half day and those before it" */
     private void checkWillBearUpToAHalfDay() {
         check.part("willBear() up to a half day");
-        BallastClub club = Clubs.of(1, 60, 12, 0);
+        NotedClub club = Clubs.of(1, 60, 12, 0);
         willBear(club, 0, 12, 0);
         willBear(club, 199, 12, 0);
         club.order(0, 0, 1, 1, 0);
@@ -76,7 +76,7 @@ public final class ToldEdgesTest {
     /** "the earlier half days first" */
     private void checkWillBearEarlierFirst() {
         check.part("willBear(), the earlier half days first");
-        BallastClub club = Clubs.of(1, 60, 0, 12, 0);
+        NotedClub club = Clubs.of(1, 60, 0, 12, 0);
         club.order(0, 0, 2, 6, 9);
         club.order(0, 0, 2, 5, 8);
         club.order(0, 1, 0, 6, 7);
@@ -89,7 +89,7 @@ public final class ToldEdgesTest {
     /** "of one half day by their numbers" */
     private void checkWillBearByNumbers() {
         check.part("willBear(), by their numbers");
-        BallastClub club = Clubs.of(1, 60, 0, 12, 0);
+        NotedClub club = Clubs.of(1, 60, 0, 12, 0);
         club.order(0, 1, 0, 6, 7);
         club.order(0, 0, 2, 6, 7);
         willBear(club, 7, 0, 6, 6);
@@ -107,7 +107,7 @@ public final class ToldEdgesTest {
     /** "those that would fail are left out" */
     private void checkWillBearLeavesOutThoseThatFail() {
         check.part("willBear(), those that would fail");
-        BallastClub club = Clubs.of(1, 60, 3, 10);
+        NotedClub club = Clubs.of(1, 60, 3, 10);
         club.order(0, 0, 1, 3, 2);
         willBear(club, 2, 3, 10);
         club.order(0, 0, 1, 2, 2);
@@ -122,7 +122,7 @@ public final class ToldEdgesTest {
 
     private void checkWillBearTenMoves() {
         check.part("willBear(), ten moves");
-        BallastClub club = Clubs.of(1, 60, 12, 0);
+        NotedClub club = Clubs.of(1, 60, 12, 0);
         for (int move = 0; move < 10; move++) {
             club.order(0, 0, 1, 1, 9 - move);
         }
@@ -139,7 +139,7 @@ public final class ToldEdgesTest {
     private void checkWillBearAsItComes() {
         check.part("willBear(), as it comes");
         int[] told = new int[60];
-        BallastClub club = manyMoves();
+        NotedClub club = manyMoves();
         for (int halfDay = 0; halfDay < 20; halfDay++) {
             for (int machine = 0; machine < 3; machine++) {
                 told[3 * halfDay + machine] = club.willBear(machine, 60, halfDay);
@@ -156,8 +156,8 @@ public final class ToldEdgesTest {
         check.due("some failed", club.count(10), 6);
     }
 
-    private static BallastClub manyMoves() {
-        BallastClub club = Clubs.of(2, 60, 6, 4, 12);
+    private static NotedClub manyMoves() {
+        NotedClub club = Clubs.of(2, 60, 6, 4, 12);
         int[][] moves = {{0, 1, 7, 3}, {0, 1, 6, 4}, {1, 0, 10, 5}, {1, 0, 11, 5}, {2, 1, 12, 2}, {2, 1, 8, 2},
             {1, 2, 4, 1}, {2, 0, 2, 19}, {0, 2, 1, 18}, {1, 2, 3, 6}};
         for (int[] move : moves) {
@@ -171,7 +171,7 @@ public final class ToldEdgesTest {
     private void checkFateOfMoves() {
         for (int halfDay = 3; halfDay <= 6; halfDay++) {
             check.part("fate() with a move at " + halfDay);
-            BallastClub club = Clubs.of(2, 50, 2, 0);
+            NotedClub club = Clubs.of(2, 50, 2, 0);
             check.due("book", club.book(0, 0, 5, 265, 20), 0);
             club.order(1, 0, 1, 1, halfDay);
             int due = halfDay <= 5 ? 1 : 0;
@@ -186,7 +186,7 @@ public final class ToldEdgesTest {
 
     private void checkFateOfMovesThatFail() {
         check.part("fate() with moves that fail");
-        BallastClub club = Clubs.of(2, 50, 2, 11);
+        NotedClub club = Clubs.of(2, 50, 2, 11);
         club.book(0, 0, 5, 265, 20);
         club.order(1, 0, 1, 2, 4);
         check.due("no room", club.fate(0), 0);
@@ -201,7 +201,7 @@ public final class ToldEdgesTest {
     /** "2 if nobody did" */
     private void checkFateOfWind() {
         check.part("fate() with wind");
-        BallastClub club = Clubs.of(2, 50, 2, 0);
+        NotedClub club = Clubs.of(2, 50, 2, 0);
         club.book(0, 0, 5, 265, 20);
         check.due("limit", club.booking(0, 8), 37);
         club.setWind(4, 99);
@@ -229,7 +229,7 @@ public final class ToldEdgesTest {
         for (int present : new int[] {0, 198, 199}) {
             for (int halfDay : new int[] {present, 199}) {
                 check.part("fate() for " + halfDay + " at " + present);
-                BallastClub club = Clubs.passTo(Clubs.of(2, 50, 2, 0), present);
+                NotedClub club = Clubs.passTo(Clubs.of(2, 50, 2, 0), present);
                 check.due("book", club.book(0, 0, halfDay, 265, 20), 0);
                 check.due("fate(0)", club.fate(0), 0);
                 club.order(1, 0, 1, 1, halfDay);
@@ -246,7 +246,7 @@ public final class ToldEdgesTest {
     private void checkFateAsItComes() {
         check.part("fate(), as it comes");
         for (int booking = 0; booking < 8; booking++) {
-            BallastClub club = Clubs.of(3, 50, 4, 4);
+            NotedClub club = Clubs.of(3, 50, 4, 4);
             for (int next = 0; next < 8; next++) {
                 club.setWind(next / 2, 38 - next % 3);
                 club.book(next % 2, next % 2, next / 2, 280 - next, 20);
@@ -271,7 +271,7 @@ public final class ToldEdgesTest {
     /** Others that are carried over can't take its half day, nor does what they pay matter. */
     private void checkFateBesideOthers() {
         check.part("fate() beside others");
-        BallastClub club = Clubs.of(1, 50, 2);
+        NotedClub club = Clubs.of(1, 50, 2);
         for (int halfDay = 0; halfDay < 5; halfDay++) {
             club.book(0, 0, halfDay, 1, 2);
         }
@@ -298,7 +298,7 @@ public final class ToldEdgesTest {
         }
     }
 
-    private void machine(BallastClub club, int machine, int... due) {
+    private void machine(NotedClub club, int machine, int... due) {
         int[] got = new int[7];
         for (int what = 0; what < 7; what++) {
             got[what] = club.machine(machine, what);
@@ -306,7 +306,7 @@ public final class ToldEdgesTest {
         told("machine " + machine, due, got);
     }
 
-    private void member(BallastClub club, int member, int... due) {
+    private void member(NotedClub club, int member, int... due) {
         int[] got = new int[7];
         for (int what = 0; what < 7; what++) {
             got[what] = club.member(member, what);
@@ -316,7 +316,7 @@ public final class ToldEdgesTest {
 
     private void checkMachine() {
         check.part("machine()");
-        BallastClub club = Clubs.of(2, 60, 12, 0, 5);
+        NotedClub club = Clubs.of(2, 60, 12, 0, 5);
         machine(club, 0, 60, 12, 0, 0, 0, NONE, 0);
         for (int booking = 0; booking < 30; booking++) {
             club.book(0, 0, booking, 1, 2);
@@ -337,7 +337,7 @@ public final class ToldEdgesTest {
 
     private void checkMember() {
         check.part("member()");
-        BallastClub club = Clubs.of(3, 60, 12, 0);
+        NotedClub club = Clubs.of(3, 60, 12, 0);
         member(club, 0, 0, 0, 0, 0, 0, 0, 0);
         club.setWind(0, 70);
         for (int booking = 0; booking < 30; booking++) {
@@ -362,7 +362,7 @@ public final class ToldEdgesTest {
 
     private void checkBookingThatIsCarried() {
         check.part("booking()");
-        BallastClub club = Clubs.of(2, 60, 12, 0);
+        NotedClub club = Clubs.of(2, 60, 12, 0);
         club.setWind(3, 25);
         club.book(1, 1, 2, 100, 60);
         club.setWind(2, 26);
@@ -375,7 +375,7 @@ public final class ToldEdgesTest {
         told("much later", new int[] {1, 1, 3, 100, 60, 1, 25, 1, 25}, all(club, 0));
     }
 
-    private static int[] all(BallastClub club, int booking) {
+    private static int[] all(NotedClub club, int booking) {
         int[] got = new int[9];
         for (int what = 0; what < 9; what++) {
             got[what] = club.booking(booking, what);
@@ -385,7 +385,7 @@ public final class ToldEdgesTest {
 
     private void checkMove() {
         check.part("move()");
-        BallastClub club = Clubs.of(8, 60, 1, 1, 1, 1, 1);
+        NotedClub club = Clubs.of(8, 60, 1, 1, 1, 1, 1);
         club.order(7, 4, 0, 12, 199);
         club.order(0, 0, 4, 1, 0);
         int[][] due = {{7, 4, 0, 12, 199}, {0, 0, 4, 1, 0}};
@@ -406,7 +406,7 @@ public final class ToldEdgesTest {
 
     private void checkWindOfThePast() {
         check.part("wind()");
-        BallastClub club = new BallastClub();
+        NotedClub club = new NotedClub();
         Clubs.type(club, "0:1;1:99;198:2;199:98").readWinds();
         Clubs.passTo(club, 199);
         int[][] due = {{-1, UNKNOWN}, {0, 1}, {1, 99}, {2, 0}, {197, 0}, {198, 2}, {199, 98}, {200, UNKNOWN}};
@@ -419,7 +419,7 @@ public final class ToldEdgesTest {
 
     // ---- count()
 
-    private void counts(BallastClub club, int... due) {
+    private void counts(NotedClub club, int... due) {
         int[] got = new int[17];
         for (int what = 0; what < 17; what++) {
             got[what] = club.count(what);
@@ -429,13 +429,13 @@ public final class ToldEdgesTest {
 
     private void checkCountsOfANewClub() {
         check.part("count() of a new club");
-        counts(new BallastClub(), 0, 0, 0, 0, 0, 0, 0, 0, 0, 0, 0, 0, 0, 0, 0, 0, 0);
+        counts(new NotedClub(), 0, 0, 0, 0, 0, 0, 0, 0, 0, 0, 0, 0, 0, 0, 0, 0, 0);
         counts(Clubs.of(8, 60), 0, 0, 8, 0, 0, 0, 0, 0, 0, 0, 0, 0, 0, 0, 0, 4, 0);
     }
 
     private void checkCountsOfAFullClub() {
         check.part("count() of a full club");
-        BallastClub club = Clubs.of(8, 60, 12, 12, 12, 12, 12);
+        NotedClub club = Clubs.of(8, 60, 12, 12, 12, 12, 12);
         for (int booking = 0; booking < 30; booking++) {
             club.book(booking % 8, booking % 2, booking / 2, 1, 2);
         }
@@ -457,7 +457,7 @@ public final class ToldEdgesTest {
     /** What all members paid and caused together, and those that nobody caused. */
     private void checkSums() {
         check.part("sums of count()");
-        BallastClub club = Clubs.of(3, 50, 2, 0);
+        NotedClub club = Clubs.of(3, 50, 2, 0);
         club.setWind(0, 38);
         club.book(0, 0, 0, 265, 20);
         club.book(1, 1, 0, 250, 20);

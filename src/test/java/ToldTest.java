@@ -22,8 +22,8 @@ public final class ToldTest {
         check.finish();
     }
 
-    private static BallastClub club() {
-        BallastClub club = new BallastClub();
+    private static NotedClub club() {
+        NotedClub club = new NotedClub();
         club.addMachine(50, 4);
         club.addMachine(30, 0);
         club.addMachine(200, 12);
@@ -34,7 +34,7 @@ public final class ToldTest {
 
     private static void checkBears(Check check) {
         check.part("promise 17");
-        BallastClub club = club();
+        NotedClub club = club();
         check.due("bears(0, 20)", club.bears(0, 20), 280);
         check.due("bears(0, 3)", club.bears(0, 3), 500);
         check.due("bears(0, 11)", club.bears(0, 11), 500);
@@ -58,7 +58,7 @@ public final class ToldTest {
 
     private static void checkWillBear(Check check) {
         check.part("promise 18");
-        BallastClub club = club();
+        NotedClub club = club();
         club.order(0, 0, 1, 3, 7);
         club.order(0, 0, 1, 2, 5);
         club.order(0, 1, 0, 1, 7);
@@ -88,7 +88,7 @@ public final class ToldTest {
 
     private static void checkWindLimit(Check check) {
         check.part("promise 19");
-        BallastClub club = new BallastClub();
+        NotedClub club = new NotedClub();
         check.due("windLimit(270, 20)", club.windLimit(270, 20), 37);
         check.due("windLimit(1, 2)", club.windLimit(1, 2), 59);
         check.due("windLimit(19, 3)", club.windLimit(19, 3), 59);
@@ -107,7 +107,7 @@ public final class ToldTest {
 
     private static void checkMachine(Check check) {
         check.part("promise 20");
-        BallastClub club = club();
+        NotedClub club = club();
         club.book(0, 0, 0, 1, 2);
         club.book(0, 0, 1, 1, 2);
         club.book(0, 0, 2, 1, 2);
@@ -132,7 +132,7 @@ public final class ToldTest {
         check.due("machine(-1, 0)", club.machine(-1, 0), UNKNOWN);
     }
 
-    private static void checkRow(Check check, BallastClub club, int machine, int... told) {
+    private static void checkRow(Check check, NotedClub club, int machine, int... told) {
         for (int what = 0; what < told.length; what++) {
             check.due("machine(" + machine + ", " + what + ")", club.machine(machine, what), told[what]);
         }
@@ -140,7 +140,7 @@ public final class ToldTest {
 
     private static void checkMember(Check check) {
         check.part("promise 21");
-        BallastClub club = club();
+        NotedClub club = club();
         for (int halfDay = 0; halfDay < 11; halfDay++) {
             club.book(halfDay < 10 ? 0 : 1, 0, halfDay, 1, 2);
         }
@@ -167,7 +167,7 @@ public final class ToldTest {
 
     private static void checkBookingAndMove(Check check) {
         check.part("promises 22 and 23");
-        BallastClub club = club();
+        NotedClub club = club();
         club.setWind(8, 8);
         club.book(1, 2, 8, 2000, 10);
         club.order(1, 2, 0, 3, 8);
@@ -191,7 +191,7 @@ public final class ToldTest {
 
     private static void checkBookedAt(Check check) {
         check.part("promise 24");
-        BallastClub club = club();
+        NotedClub club = club();
         club.book(0, 0, 0, 1, 2);
         club.book(0, 1, 0, 1, 2);
         club.book(0, 1, 199, 1, 2);
@@ -213,7 +213,7 @@ public final class ToldTest {
 
     private static void checkMachineFor(Check check) {
         check.part("promise 25");
-        BallastClub club = club();
+        NotedClub club = club();
         check.due("machineFor(0, 150, 20)", club.machineFor(0, 150, 20), 0);
         check.due("machineFor(0, 280, 20)", club.machineFor(0, 280, 20), 0);
         check.due("machineFor(0, 281, 20)", club.machineFor(0, 281, 20), 2);
@@ -233,7 +233,7 @@ public final class ToldTest {
         check.due("machineFor(0, 2001, 2)", club.machineFor(0, 2001, 2), BAD_VALUE);
         check.due("machineFor(0, 1, 1)", club.machineFor(0, 1, 1), BAD_VALUE);
         check.due("machineFor(0, 1, 61)", club.machineFor(0, 1, 61), BAD_VALUE);
-        check.due("no machines", new BallastClub().machineFor(0, 1, 2), NONE);
+        check.due("no machines", new NotedClub().machineFor(0, 1, 2), NONE);
         club.pass(2);
         check.due("over", club.machineFor(1, 1, 2), UNKNOWN);
         check.due("the present one", club.machineFor(2, 1, 2), 0);
@@ -241,7 +241,7 @@ public final class ToldTest {
 
     private static void checkFate(Check check) {
         check.part("promise 26");
-        BallastClub club = club();
+        NotedClub club = club();
         club.book(0, 0, 6, 280, 20);
         club.book(0, 0, 8, 280, 20);
         check.due("fate(0)", club.fate(0), 0);
@@ -281,7 +281,7 @@ public final class ToldTest {
 
     private static void checkFateAtTheEnd(Check check) {
         check.part("promise 26, half day 199");
-        BallastClub club = club();
+        NotedClub club = club();
         club.book(0, 0, 199, 280, 20);
         check.due("fate(0)", club.fate(0), 0);
         club.order(1, 0, 1, 1, 199);
@@ -299,7 +299,7 @@ public final class ToldTest {
 
     private static void checkWind(Check check) {
         check.part("promise 27");
-        BallastClub club = new BallastClub();
+        NotedClub club = new NotedClub();
         club.setWind(0, 9);
         club.setWind(199, 99);
         club.pass(20);
@@ -313,7 +313,7 @@ public final class ToldTest {
 
     private static void checkCount(Check check) {
         check.part("promise 28");
-        BallastClub club = club();
+        NotedClub club = club();
         for (int halfDay = 0; halfDay < 11; halfDay++) {
             club.book(halfDay % 2, 0, halfDay, 1, 2);
         }

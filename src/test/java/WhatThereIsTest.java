@@ -15,7 +15,7 @@ public final class WhatThereIsTest {
 
     private static void checkMachines(Check check) {
         check.part("promise 2");
-        BallastClub club = new BallastClub();
+        NotedClub club = new NotedClub();
         String before = Told.all(club);
         check.refused(club, before, "addMachine(9, 0)", club.addMachine(9, 0), BAD_VALUE);
         check.refused(club, before, "addMachine(201, 0)", club.addMachine(201, 0), BAD_VALUE);
@@ -44,7 +44,7 @@ public final class WhatThereIsTest {
 
     private static void checkMembers(Check check) {
         check.part("promise 3");
-        BallastClub club = new BallastClub();
+        NotedClub club = new NotedClub();
         for (int member = 0; member < 8; member++) {
             check.due("addMember()", club.addMember(), member);
             check.due("count(2)", club.count(2), member + 1);
@@ -59,7 +59,7 @@ public final class WhatThereIsTest {
 
     private static void checkWinds(Check check) {
         check.part("promise 4");
-        BallastClub club = new BallastClub();
+        NotedClub club = new NotedClub();
         String before = Told.all(club);
         check.refused(club, before, "setWind(-1, 5)", club.setWind(-1, 5), UNKNOWN);
         check.refused(club, before, "setWind(200, 5)", club.setWind(200, 5), UNKNOWN);

@@ -1,14 +1,15 @@
 /** Any arguments in any state: no call throws, and one that answers an error or NONE changes nothing. */
 public final class WildArgumentsTest {
     private static final int RUNS = 60;
-    private static final int CALLS = 512;
+    /** Behind these, too few calls are left to ask aside. */
+    private static final int COMPARED_CALLS = 420;
     private static final int[] WILD = {
         Integer.MIN_VALUE, Integer.MIN_VALUE + 1, -200, -6, -5, -1, 0, 1, 2, 3, 9, 10, 11, 12, 13, 29, 30, 31, 59, 60,
         61, 99, 100, 198, 199, 200, 201, 1999, 2000, 2001, Integer.MAX_VALUE - 19, Integer.MAX_VALUE - 1,
         Integer.MAX_VALUE};
 
     private final Numbers numbers;
-    private final BallastClub club = new BallastClub();
+    private final NotedClub club = new NotedClub();
 
     private WildArgumentsTest(int run) {
         numbers = new Numbers(1000 + run);
@@ -25,16 +26,18 @@ public final class WildArgumentsTest {
 
     private void run(Check check) {
         String before = Told.all(club);
-        for (int call = 0; call < CALLS; call++) {
+        for (int call = 0; call < NotedClub.MOST_CALLS; call++) {
             int kind = numbers.below(27);
             try {
                 int answer = call(kind);
-                String after = Told.all(club);
-                check.holds("call " + call + " of the kind " + kind + " answered " + answer + " and changed something",
-                        answer >= 0 || after.equals(before));
                 check.holds("call " + call + " of the kind " + kind + " answered " + answer,
                         answer >= -5 || kind == 11 && answer <= -100 && answer >= -160);
-                before = after;
+                if (call < COMPARED_CALLS) {
+                    String after = Told.all(club);
+                    check.holds("call " + call + " of the kind " + kind + " changed something",
+                            answer >= 0 || after.equals(before));
+                    before = after;
+                }
             } catch (RuntimeException thrown) {
                 check.holds("call " + call + " of the kind " + kind + " threw " + thrown, false);
             }
